@@ -22,7 +22,10 @@ public final class CaptureSubtypes {
      * through a WILD argument uses up one of the few of the two types asked about: no question
      * comes near this guard.
      */
-    private static final int LEVELS = 48;
+    private static final int LEVELS = 40;
+
+    /** How far into a TYPE'S parts: TYPES that are there are 6 deep, VARIABLES lead on to more. */
+    private static final int PART_LEVELS = 20;
 
     private final Classes classes;
     private final Types types;
@@ -219,7 +222,7 @@ public final class CaptureSubtypes {
         if (!types.standsAlone(type) || type == INT || type == NULL) {
             return BAD;
         }
-        return settle(shapes.erasure(type, Shapes.PART_LEVELS));
+        return settle(shapes.erasure(type, PART_LEVELS));
     }
 
     public int good(int type) {
@@ -243,14 +246,14 @@ public final class CaptureSubtypes {
             return false;
         }
         int parent = types.ownerOf(type);
-        if (parent >= c || classes.kindOf(parent) == LAST || !types.isOwnWord(type, c)) {
+        if (parent >= c || classes.kindOf(parent) == LAST || !types.isInWordsOf(type, c)) {
             return false;
         }
         return classes.isFace(parent) || !classes.isFace(c);
     }
 
     private boolean mayBound(int c, int i, int type) {
-        if (!types.has(type) || type == OBJECT || !types.isOwnWord(type, c)) {
+        if (!types.has(type) || type == OBJECT || !types.isInWordsOf(type, c)) {
             return false;
         }
         boolean first = classes.boundCount(c, i) == 0;
@@ -268,12 +271,15 @@ public final class CaptureSubtypes {
         static final int SLOTS = 3;
 
         int count;
-        private final int[] kind = new int[MOST];
-        private final int[] parameters = new int[MOST];
-        private final int[] superType = new int[MOST * SLOTS];
-        private final int[] superClass = new int[MOST * SLOTS];
-        private final int[] bound = new int[MOST * PARAMETERS * BOUNDS];
-        private final int[] boundCount = new int[MOST * PARAMETERS];
+        private final int[] kinds = new int[MOST];
+        private final int[] parameterCounts = new int[MOST];
+        private final int[] superTypes = new int[MOST * SLOTS];
+        private final int[] superClasses = new int[MOST * SLOTS];
+        private final int[] bounds = new int[MOST * PARAMETERS * BOUNDS];
+        private final int[] boundCounts = new int[MOST * PARAMETERS];
+
+        /** Bit d of parents[c]: a SUPER of c is of d. */
+        private final int[] parents = new int[MOST];
 
         /** Bit d of above[c]: c is BELOW d. */
         private final int[] above = new int[MOST];
@@ -287,27 +293,38 @@ public final class CaptureSubtypes {
 
         void empty() {
             count = 0;
-            add(0, 0);
+            write(0, 0, NONE);
+            above[0] = 1;
         }
 
-        int add(int newKind, int newParameters) {
+        int add(int kind, int parameters) {
             if (count >= MOST) {
                 return FULL;
             }
+            write(kind, parameters, kind < FACE ? OBJECT : NONE);
+            reckon();
+            return count - 1;
+        }
+
+        /** OBJECT'S number as a TYPE is its number as a CLASS, so that one word tells both. */
+        private void write(int kind, int parameters, int firstSuper) {
             int c = count;
-            count++;
-            kind[c] = newKind;
-            parameters[c] = newParameters;
+            if (c < 0 || c >= MOST) {
+                return;
+            }
+            count = c + 1;
+            kinds[c] = kind;
+            parameterCounts[c] = parameters;
+            parents[c] = 0;
+            above[c] = 0;
+            apartFrom[c] = 0;
             for (int slot = 0; slot < SLOTS; slot++) {
-                boolean startsWithObject = slot == 0 && c > 0 && newKind < FACE;
-                superType[c * SLOTS + slot] = startsWithObject ? OBJECT : NONE;
-                superClass[c * SLOTS + slot] = startsWithObject ? 0 : NONE;
+                superTypes[c * SLOTS + slot] = slot == 0 ? firstSuper : NONE;
+                superClasses[c * SLOTS + slot] = slot == 0 ? firstSuper : NONE;
             }
             for (int i = 0; i < PARAMETERS; i++) {
-                boundCount[c * PARAMETERS + i] = 0;
+                boundCounts[c * PARAMETERS + i] = 0;
             }
-            reckon();
-            return c;
         }
 
         boolean has(int c) {
@@ -315,46 +332,52 @@ public final class CaptureSubtypes {
         }
 
         int kindOf(int c) {
-            return has(c) ? kind[c] : NONE;
+            return c >= 0 && c < count ? kinds[c] : NONE;
+        }
+
+        boolean isFace(int c) {
+            return c >= 0 && c < count && kinds[c] >= FACE;
         }
 
         int parametersOf(int c) {
-            return has(c) ? parameters[c] : 0;
+            return c >= 0 && c < count ? parameterCounts[c] : 0;
         }
 
         boolean hasParameter(int c, int i) {
-            return i >= 0 && i < parametersOf(c);
+            return c >= 0 && c < count && i >= 0 && i < parameterCounts[c];
         }
 
         /** The sort of the TYPE that is the CLASS'S name alone. */
         int nameSort(int c) {
-            return parametersOf(c) == 0 ? PLAIN : BARE;
-        }
-
-        boolean isFace(int c) {
-            return kindOf(c) >= FACE;
+            return c >= 0 && c < count && parameterCounts[c] > 0 ? BARE : PLAIN;
         }
 
         boolean isUnder(int c, int d) {
-            return has(c) && has(d) && (above[c] >> d & 1) == 1;
+            return c >= 0 && c < count && d >= 0 && d < count && (above[c] >> d & 1) == 1;
         }
 
         boolean areApart(int c, int d) {
-            return has(c) && has(d) && (apartFrom[c] >> d & 1) == 1;
+            return c >= 0 && c < count && d >= 0 && d < count && (apartFrom[c] >> d & 1) == 1;
+        }
+
+        private boolean isHeir(int h, int c) {
+            return h >= 0 && h < count && c >= 0 && c < count && (parents[h] >> c & 1) == 1;
         }
 
         int superType(int c, int slot) {
-            return hasSlot(c, slot) ? superType[c * SLOTS + slot] : NONE;
+            boolean there = c >= 0 && c < count && slot >= 0 && slot < SLOTS;
+            return there ? superTypes[c * SLOTS + slot] : NONE;
         }
 
         int superClass(int c, int slot) {
-            return hasSlot(c, slot) ? superClass[c * SLOTS + slot] : NONE;
+            boolean there = c >= 0 && c < count && slot >= 0 && slot < SLOTS;
+            return there ? superClasses[c * SLOTS + slot] : NONE;
         }
 
         void setSuper(int c, int slot, int type, int parent) {
-            if (hasSlot(c, slot)) {
-                superType[c * SLOTS + slot] = type;
-                superClass[c * SLOTS + slot] = parent;
+            if (c >= 0 && c < count && slot >= 0 && slot < SLOTS) {
+                superTypes[c * SLOTS + slot] = type;
+                superClasses[c * SLOTS + slot] = parent;
                 reckon();
             }
         }
@@ -382,9 +405,9 @@ public final class CaptureSubtypes {
             return found;
         }
 
-        /** The first SUPER, in the order of slots from one on, that is BELOW d; or NONE. */
-        int slotTowards(int c, int d, int from) {
-            for (int slot = from; slot < SLOTS; slot++) {
+        /** The first SUPER whose CLASS is BELOW d; or NONE. */
+        int slotTowards(int c, int d) {
+            for (int slot = 0; slot < SLOTS; slot++) {
                 if (isUnder(superClass(c, slot), d)) {
                     return slot;
                 }
@@ -413,7 +436,8 @@ public final class CaptureSubtypes {
         }
 
         int boundCount(int c, int i) {
-            return hasParameter(c, i) ? boundCount[c * PARAMETERS + i] : 0;
+            boolean there = c >= 0 && c < count && i >= 0 && i < parameterCounts[c];
+            return there ? boundCounts[c * PARAMETERS + i] : 0;
         }
 
         /** The BOUND at a place; OBJECT where none was put in. */
@@ -421,7 +445,7 @@ public final class CaptureSubtypes {
             if (place < 0 || place >= boundCount(c, i)) {
                 return OBJECT;
             }
-            return bound[(c * PARAMETERS + i) * BOUNDS + place];
+            return bounds[(c * PARAMETERS + i) * BOUNDS + place];
         }
 
         int addBound(int c, int i, int type) {
@@ -429,26 +453,9 @@ public final class CaptureSubtypes {
             if (!hasParameter(c, i) || place >= BOUNDS) {
                 return FULL;
             }
-            bound[(c * PARAMETERS + i) * BOUNDS + place] = type;
-            boundCount[c * PARAMETERS + i] = place + 1;
+            bounds[(c * PARAMETERS + i) * BOUNDS + place] = type;
+            boundCounts[c * PARAMETERS + i] = place + 1;
             return place + 1;
-        }
-
-        private boolean hasSlot(int c, int slot) {
-            return has(c) && slot >= 0 && slot < SLOTS;
-        }
-
-        private boolean isHeir(int h, int c) {
-            for (int slot = 0; slot < SLOTS; slot++) {
-                if (superClass(h, slot) == c) {
-                    return true;
-                }
-            }
-            return false;
-        }
-
-        private boolean isSealed(int c) {
-            return kindOf(c) == SEALED_CLASS || kindOf(c) == SEALED_FACE;
         }
 
         private void reckon() {
@@ -459,10 +466,12 @@ public final class CaptureSubtypes {
         /** SUPERS are of lesser number, so that theirs are reckoned when they are asked for. */
         private void reckonAbove() {
             for (int c = 0; c < count; c++) {
+                parents[c] = 0;
                 above[c] = 1 | 1 << c;
                 for (int slot = 0; slot < SLOTS; slot++) {
                     int parent = superClass(c, slot);
-                    if (has(parent)) {
+                    if (parent >= 0 && parent < c) {
+                        parents[c] |= 1 << parent;
                         above[c] |= above[parent];
                     }
                 }
@@ -474,25 +483,30 @@ public final class CaptureSubtypes {
             for (int c = count - 1; c >= 0; c--) {
                 apartFrom[c] = 0;
                 for (int d = count - 1; d >= 0; d--) {
-                    if (reckonApart(c, d)) {
+                    if (mustBeApart(c, d)) {
                         apartFrom[c] |= 1 << d;
                     }
                 }
             }
         }
 
-        private boolean reckonApart(int c, int d) {
+        private boolean mustBeApart(int c, int d) {
             if (isUnder(c, d) || isUnder(d, c)) {
                 return false;
             }
             if (!isFace(c) && !isFace(d) || kindOf(c) == LAST || kindOf(d) == LAST) {
                 return true;
             }
-            return isSealed(c) && firstHeirsApart(c, d) || isSealed(d) && secondHeirsApart(c, d);
+            return isSealed(c) && heirsApartFrom(c, d) || isSealed(d) && apartFromHeirs(c, d);
         }
 
-        private boolean firstHeirsApart(int c, int d) {
-            for (int h = c + 1; h < count; h++) {
+        private boolean isSealed(int c) {
+            int kind = kindOf(c);
+            return kind == SEALED_CLASS || kind == SEALED_FACE;
+        }
+
+        private boolean heirsApartFrom(int c, int d) {
+            for (int h = 0; h < count; h++) {
                 if (isHeir(h, c) && !areApart(h, d)) {
                     return false;
                 }
@@ -500,8 +514,8 @@ public final class CaptureSubtypes {
             return true;
         }
 
-        private boolean secondHeirsApart(int c, int d) {
-            for (int h = d + 1; h < count; h++) {
+        private boolean apartFromHeirs(int c, int d) {
+            for (int h = 0; h < count; h++) {
                 if (isHeir(h, d) && !areApart(c, h)) {
                     return false;
                 }
@@ -518,24 +532,25 @@ public final class CaptureSubtypes {
     private static final class Types {
         static final int MOST = 150, DEEPEST = 6;
 
-        /** With what a call forms. Far more than SUPERS and BOUNDS out of 150 TYPES can ask for. */
-        static final int ROOM = 4096;
+        /** With what a call forms: far more than SUPERS and BOUNDS of 150 TYPES can ask for. */
+        static final int ROOM = 2048;
 
         private static final int WILD_INSIDE = 1 << Classes.MOST;
 
         int kept;
         private int top;
-        private final int[] sort = new int[ROOM];
-        private final int[] owner = new int[ROOM];
-        private final int[] first = new int[ROOM];
-        private final int[] second = new int[ROOM];
-        private final int[] depth = new int[ROOM];
+        private final int[] sorts = new int[ROOM];
+        private final int[] owners = new int[ROOM];
+        private final int[] firsts = new int[ROOM];
+        private final int[] seconds = new int[ROOM];
+        private final int[] depths = new int[ROOM];
 
         /** Bit c: a VARIABLE of CLASS c is a part; and WILD_INSIDE. */
-        private final int[] inside = new int[ROOM];
+        private final int[] insides = new int[ROOM];
 
-        private final int[] up = new int[ROOM];
-        private final int[] low = new int[ROOM];
+        /** Of CAUGHT ones: what the WILD one is up to, and what it is down to. */
+        private final int[] ups = new int[ROOM];
+        private final int[] lows = new int[ROOM];
 
         Types() {
             empty();
@@ -553,58 +568,57 @@ public final class CaptureSubtypes {
             return t >= 0 && t < kept;
         }
 
-        private boolean isWritten(int t) {
-            return t >= 0 && t < top;
-        }
-
         int sortOf(int t) {
-            return isWritten(t) ? sort[t] : NONE;
+            return t >= 0 && t < top ? sorts[t] : NONE;
         }
 
         int ownerOf(int t) {
-            return isWritten(t) ? owner[t] : NONE;
+            return t >= 0 && t < top ? owners[t] : NONE;
         }
 
         int firstOf(int t) {
-            return isWritten(t) ? first[t] : NONE;
+            return t >= 0 && t < top ? firsts[t] : NONE;
         }
 
         int secondOf(int t) {
-            return isWritten(t) ? second[t] : NONE;
+            return t >= 0 && t < top ? seconds[t] : NONE;
         }
 
         int depthOf(int t) {
-            return isWritten(t) ? depth[t] : 0;
+            return t >= 0 && t < top ? depths[t] : 0;
         }
 
         int upOf(int t) {
-            return isWritten(t) ? up[t] : NONE;
+            return t >= 0 && t < top ? ups[t] : NONE;
         }
 
         int lowOf(int t) {
-            return isWritten(t) ? low[t] : NONE;
+            return t >= 0 && t < top ? lows[t] : NONE;
         }
 
-        int argument(int t, int i) {
-            return i == 0 ? firstOf(t) : secondOf(t);
+        int argumentOf(int t, int i) {
+            if (t < 0 || t >= top) {
+                return NONE;
+            }
+            return i == 0 ? firsts[t] : seconds[t];
         }
 
         boolean standsAlone(int t) {
-            return has(t) && sortOf(t) != WILD;
+            return t >= 0 && t < kept && sorts[t] != WILD;
         }
 
         boolean mayBeArgument(int t) {
-            return has(t) && t != INT && t != NULL;
+            return t >= 0 && t < kept && t != INT && t != NULL;
         }
 
         boolean isOfClass(int t) {
-            int s = sortOf(t);
-            return s == PLAIN || s == BARE || s == OF;
+            int sort = sortOf(t);
+            return sort == PLAIN || sort == BARE || sort == OF;
         }
 
         boolean isVariable(int t) {
-            int s = sortOf(t);
-            return s == VARIABLE || s == CAUGHT;
+            int sort = sortOf(t);
+            return sort == VARIABLE || sort == CAUGHT;
         }
 
         boolean hasWildArgument(int t) {
@@ -612,58 +626,40 @@ public final class CaptureSubtypes {
         }
 
         boolean mentions(int t, int c) {
-            return isWritten(t) && c >= 0 && c < Classes.MOST && (inside[t] >> c & 1) == 1;
+            return t >= 0 && t < top && c >= 0 && c < Classes.MOST && (insides[t] >> c & 1) == 1;
         }
 
-        /** Without WILD parts and VARIABLES but those of c. */
-        boolean isOwnWord(int t, int c) {
-            if (!isWritten(t) || c < 0 || c >= Classes.MOST) {
-                return false;
-            }
-            return (inside[t] & ~(1 << c)) == 0;
+        /** Without WILD parts, and without VARIABLES but those of c. */
+        boolean isInWordsOf(int t, int c) {
+            return t >= 0 && t < top && c >= 0 && c < Classes.MOST && (insides[t] & ~(1 << c)) == 0;
         }
 
-        /** A TYPE to stay: its number, or FULL, or DEEP. */
-        int keep(int s, int o, int a, int b) {
-            int found = find(s, o, a, b);
-            if (found != NONE) {
-                return found;
+        /** A TYPE that stays, or the one that is there: its number; FULL; DEEP. */
+        int keep(int sort, int owner, int first, int second) {
+            int t = put(sort, owner, first, second, MOST);
+            if (t >= kept) {
+                kept = t + 1;
             }
-            if (kept >= MOST) {
-                return FULL;
-            }
-            if (depthWith(s, a, b) > DEEPEST) {
-                return DEEP;
-            }
-            int t = write(s, o, a, b);
-            kept = top;
             return t;
         }
 
-        /** A TYPE for the time of a call, or the one that is there; NONE if there is no room. */
-        int form(int s, int o, int a, int b) {
-            int found = find(s, o, a, b);
-            return found != NONE ? found : write(s, o, a, b);
-        }
-
-        int formRow(int part) {
-            return isWritten(part) ? form(ROW, NONE, part, NONE) : NONE;
-        }
-
-        /** A new VARIABLE for a WILD argument of CLASS c at place i: never one that is there. */
-        int formCaught(int c, int i, int wild) {
-            int t = write(CAUGHT, c, i, NONE);
-            if (isWritten(t)) {
-                up[t] = ownerOf(wild) == UP_TO ? firstOf(wild) : NONE;
-                low[t] = ownerOf(wild) == DOWN_TO ? firstOf(wild) : NONE;
+        /** An ARGUMENT as it is; of a WILD one a VARIABLE that is always new. */
+        int hold(int c, int i, int argument) {
+            if (sortOf(argument) != WILD) {
+                return argument;
+            }
+            int t = put(CAUGHT, c, i, NONE, ROOM);
+            if (t >= 0 && t < top) {
+                ups[t] = ownerOf(argument) == UP_TO ? firstOf(argument) : NONE;
+                lows[t] = ownerOf(argument) == DOWN_TO ? firstOf(argument) : NONE;
             }
             return t;
         }
 
         /** Lets a CAUGHT VARIABLE know the TYPE whose ARGUMENTS go into its BOUNDS. */
-        void setHome(int caught, int home) {
-            if (sortOf(caught) == CAUGHT) {
-                second[caught] = home;
+        void setHome(int t, int home) {
+            if (t >= 0 && t < top && sorts[t] == CAUGHT && seconds[t] == NONE) {
+                seconds[t] = home;
             }
         }
 
@@ -677,61 +673,53 @@ public final class CaptureSubtypes {
             }
         }
 
-        private int find(int s, int o, int a, int b) {
-            for (int t = 0; t < top; t++) {
-                if (sort[t] == s && owner[t] == o && first[t] == a && second[t] == b) {
+        /**
+         * The TYPE of these words: the one that is there, or a new one whose number is below the
+         * limit: MOST for one that stays, ROOM for one that a call forms. FULL; DEEP if it stays.
+         */
+        int put(int sort, int owner, int first, int second, int limit) {
+            for (int t = sort == CAUGHT ? top : 0; t < top; t++) {
+                if (sorts[t] == sort && owners[t] == owner && firsts[t] == first
+                        && seconds[t] == second) {
                     return t;
                 }
             }
-            return NONE;
-        }
-
-        private int write(int s, int o, int a, int b) {
-            if (top < 0 || top >= ROOM) {
-                return NONE;
+            boolean hasParts = sort == OF || sort == ROW || sort == WILD;
+            int depth = 1;
+            int inside = sort == VARIABLE ? 1 << owner : sort == WILD ? WILD_INSIDE : 0;
+            if (hasParts && first >= 0 && first < top) {
+                depth = 1 + depths[first];
+                inside |= insides[first];
+            }
+            if (hasParts && second >= 0 && second < top) {
+                depth = Math.max(depth, 1 + depths[second]);
+                inside |= insides[second];
+            }
+            if (top < 0 || top >= ROOM || top >= limit) {
+                return FULL;
+            }
+            if (limit == MOST && depth > DEEPEST) {
+                return DEEP;
             }
             int t = top;
-            sort[t] = s;
-            owner[t] = o;
-            first[t] = a;
-            second[t] = b;
-            depth[t] = depthWith(s, a, b);
-            inside[t] = insideWith(s, o, a, b);
-            up[t] = NONE;
-            low[t] = NONE;
             top = t + 1;
+            sorts[t] = sort;
+            owners[t] = owner;
+            firsts[t] = first;
+            seconds[t] = second;
+            depths[t] = depth;
+            insides[t] = inside;
+            ups[t] = NONE;
+            lows[t] = NONE;
             return t;
-        }
-
-        private static boolean hasParts(int s) {
-            return s == OF || s == ROW || s == WILD;
-        }
-
-        private int depthWith(int s, int a, int b) {
-            return hasParts(s) ? 1 + Math.max(depthOf(a), depthOf(b)) : 1;
-        }
-
-        private int insideWith(int s, int o, int a, int b) {
-            if (s == VARIABLE) {
-                return 1 << o;
-            }
-            if (!hasParts(s)) {
-                return 0;
-            }
-            int own = s == WILD ? WILD_INSIDE : 0;
-            return own | insideOf(a) | insideOf(b);
-        }
-
-        private int insideOf(int t) {
-            return isWritten(t) ? inside[t] : 0;
         }
     }
 
-    /** TYPES made of TYPES: THE ERASED, CAUGHT, AS, ARGUMENTS put in for PARAMETERS. */
+    /**
+     * TYPES made of TYPES: THE ERASED, CAUGHT, AS, ARGUMENTS put in for PARAMETERS. What has no
+     * room, or goes too deep, is FULL.
+     */
     private static final class Shapes {
-        /** How far into parts; TYPES that are there are 6 deep, VARIABLES lead on to others. */
-        static final int PART_LEVELS = 20;
-
         private final Classes classes;
         private final Types types;
 
@@ -742,7 +730,7 @@ public final class CaptureSubtypes {
 
         int erasure(int t, int level) {
             if (level <= 0) {
-                return NONE;
+                return FULL;
             }
             if (types.isOfClass(t)) {
                 return nameAlone(types.ownerOf(t));
@@ -751,9 +739,14 @@ public final class CaptureSubtypes {
                 return erasure(boundOf(t, 0), level - 1);
             }
             if (types.sortOf(t) == ROW) {
-                return types.formRow(erasure(types.firstOf(t), level - 1));
+                int part = erasure(types.firstOf(t), level - 1);
+                return part < 0 ? FULL : types.put(ROW, NONE, part, NONE, Types.ROOM);
             }
             return t;
+        }
+
+        private int nameAlone(int c) {
+            return types.put(classes.nameSort(c), c, NONE, NONE, Types.ROOM);
         }
 
         /** Of a VARIABLE; one that has none has OBJECT. */
@@ -776,34 +769,23 @@ public final class CaptureSubtypes {
 
         /** A TYPE in the words of home's CLASS, with home's ARGUMENTS put in for PARAMETERS. */
         int putIn(int t, int home, int level) {
+            int sort = types.sortOf(t);
             if (level <= 0) {
-                return NONE;
+                return FULL;
             }
             if (types.sortOf(home) != OF || !types.mentions(t, types.ownerOf(home))) {
                 return t;
             }
-            switch (types.sortOf(t)) {
-                case VARIABLE:
-                    return types.argument(home, types.firstOf(t));
-                case ROW:
-                    return types.formRow(putIn(types.firstOf(t), home, level - 1));
-                case OF:
-                    return putIntoArguments(t, home, level - 1);
-                default:
-                    return t;
+            if (sort == VARIABLE) {
+                return types.argumentOf(home, types.firstOf(t));
             }
-        }
-
-        private int putIntoArguments(int t, int home, int level) {
-            int a = putIn(types.firstOf(t), home, level);
-            if (a == NONE) {
-                return NONE;
+            boolean pair = types.secondOf(t) != NONE;
+            int first = putIn(types.firstOf(t), home, level - 1);
+            int second = pair ? putIn(types.secondOf(t), home, level - 1) : NONE;
+            if (first < 0 || pair && second < 0) {
+                return FULL;
             }
-            if (types.secondOf(t) == NONE) {
-                return types.form(OF, types.ownerOf(t), a, NONE);
-            }
-            int b = putIn(types.secondOf(t), home, level);
-            return b == NONE ? NONE : types.form(OF, types.ownerOf(t), a, b);
+            return types.put(sort, types.ownerOf(t), first, second, Types.ROOM);
         }
 
         /** The TYPE with new VARIABLES for WILD ARGUMENTS, or itself if it has none. */
@@ -811,56 +793,38 @@ public final class CaptureSubtypes {
             if (!types.hasWildArgument(t)) {
                 return t;
             }
-            int a = caughtArgument(t, 0);
-            int b = caughtArgument(t, 1);
-            if (a == NONE || b == NONE && types.secondOf(t) != NONE) {
-                return NONE;
+            int c = types.ownerOf(t);
+            boolean pair = types.secondOf(t) != NONE;
+            int first = types.hold(c, 0, types.firstOf(t));
+            int second = pair ? types.hold(c, 1, types.secondOf(t)) : NONE;
+            if (first < 0 || pair && second < 0) {
+                return FULL;
             }
-            int home = types.form(OF, types.ownerOf(t), a, b);
-            if (types.sortOf(types.firstOf(t)) == WILD) {
-                types.setHome(a, home);
-            }
-            if (types.sortOf(types.secondOf(t)) == WILD) {
-                types.setHome(b, home);
-            }
+            int home = types.put(OF, c, first, second, Types.ROOM);
+            types.setHome(first, home);
+            types.setHome(second, home);
             return home;
         }
 
-        private int caughtArgument(int t, int i) {
-            int argument = types.argument(t, i);
-            if (types.sortOf(argument) != WILD) {
-                return argument;
-            }
-            return types.formCaught(types.ownerOf(t), i, argument);
-        }
-
-        /** AS d of a TYPE of a CLASS BELOW d. */
+        /** AS d of a TYPE, without WILD ARGUMENTS, of a CLASS BELOW d. */
         int viewedAs(int type, int d) {
             if (d == 0) {
                 return OBJECT;
             }
-            int t = caught(type);
+            int t = type;
             for (int step = 0; step < Classes.MOST; step++) {
                 int c = types.ownerOf(t);
                 if (!types.isOfClass(t) || c == d) {
                     return t;
                 }
-                t = superOf(t, classes.slotTowards(c, d, 0));
+                int slot = classes.slotTowards(c, d);
+                if (types.sortOf(t) == BARE) {
+                    t = nameAlone(classes.superClass(c, slot));
+                } else {
+                    t = putIn(classes.superType(c, slot), t, PART_LEVELS);
+                }
             }
-            return NONE;
-        }
-
-        private int superOf(int t, int slot) {
-            int c = types.ownerOf(t);
-            if (types.sortOf(t) == BARE) {
-                int parent = classes.superClass(c, slot);
-                return parent == NONE ? NONE : nameAlone(parent);
-            }
-            return putIn(classes.superType(c, slot), t, PART_LEVELS);
-        }
-
-        private int nameAlone(int c) {
-            return types.form(classes.nameSort(c), c, NONE, NONE);
+            return FULL;
         }
 
         /** Whether some AS d of some CLASS hangs on which of its SUPERS is taken. */
@@ -875,12 +839,13 @@ public final class CaptureSubtypes {
             return false;
         }
 
+        /** A CLASS of its own VARIABLES has its SUPERS as they were put in. */
         private boolean clashesAt(int c, int d) {
             int mark = types.mark();
             int one = NONE;
             boolean differs = false;
             for (int slot = 0; slot < Classes.SLOTS; slot++) {
-                if (classes.slotTowards(c, d, slot) == slot) {
+                if (classes.isUnder(classes.superClass(c, slot), d)) {
                     int other = viewedAs(classes.superType(c, slot), d);
                     differs = differs || one != NONE && one != other;
                     one = other;
@@ -953,7 +918,7 @@ public final class CaptureSubtypes {
             if (types.sortOf(t) != OF) {
                 return true;
             }
-            int view = shapes.viewedAs(s, d);
+            int view = shapes.viewedAs(shapes.caught(s), d);
             if (types.sortOf(view) != OF) {
                 return false;
             }
@@ -988,7 +953,7 @@ public final class CaptureSubtypes {
             }
             int d = types.ownerOf(t);
             return types.isOfClass(s) && classes.isUnder(types.ownerOf(s), d)
-                    && types.sortOf(shapes.viewedAs(s, d)) == BARE;
+                    && types.sortOf(shapes.viewedAs(shapes.caught(s), d)) == BARE;
         }
 
         private boolean someBoundIsUnchecked(int s, int t, int level) {
@@ -1006,7 +971,7 @@ public final class CaptureSubtypes {
             int c = types.ownerOf(t);
             int home = shapes.caught(t);
             for (int i = 0; i < classes.parametersOf(c); i++) {
-                boolean wild = types.sortOf(types.argument(t, i)) == WILD;
+                boolean wild = types.sortOf(types.argumentOf(t, i)) == WILD;
                 if (!wild && !keepsBoundsAt(home, i)) {
                     return false;
                 }
@@ -1018,8 +983,8 @@ public final class CaptureSubtypes {
             int c = types.ownerOf(home);
             int bounds = classes.boundCount(c, i);
             for (int place = 0; place < bounds; place++) {
-                int bound = shapes.putIn(classes.boundAt(c, i, place), home, Shapes.PART_LEVELS);
-                if (!isOne(types.argument(home, i), bound, LEVELS)) {
+                int bound = shapes.putIn(classes.boundAt(c, i, place), home, PART_LEVELS);
+                if (!isOne(types.argumentOf(home, i), bound, LEVELS)) {
                     return false;
                 }
             }
@@ -1045,7 +1010,7 @@ public final class CaptureSubtypes {
             if (level <= 0) {
                 return false;
             }
-            if (isEitherWay(s, t, level - 1)) {
+            if (order.isOne(s, t, level - 1) || order.isOne(t, s, level - 1)) {
                 return true;
             }
             if (s == INT || t == INT) {
@@ -1061,10 +1026,6 @@ public final class CaptureSubtypes {
                 return mayTurn(types.firstOf(s), types.firstOf(t), level - 1);
             }
             return types.isOfClass(s) && types.isOfClass(t) && mayByClass(s, t);
-        }
-
-        private boolean isEitherWay(int s, int t, int level) {
-            return order.isOne(s, t, level) || order.isOne(t, s, level);
         }
 
         private boolean mayFromBounds(int s, int t, int level) {
@@ -1093,28 +1054,28 @@ public final class CaptureSubtypes {
             if (classes.areApart(c, d)) {
                 return false;
             }
-            for (int g = 0; g < classes.count; g++) {
-                if (classes.isUnder(c, g) && classes.isUnder(d, g) && viewsDiffer(s, t, g)) {
-                    return false;
+            int mark = types.mark();
+            int from = shapes.caught(s);
+            int into = shapes.caught(t);
+            boolean yes = true;
+            for (int g = 1; g < classes.count && yes; g++) {
+                if (classes.isUnder(c, g) && classes.isUnder(d, g)) {
+                    int one = shapes.viewedAs(from, g);
+                    int other = shapes.viewedAs(into, g);
+                    yes = !differ(one, other, 0) && !differ(one, other, 1);
                 }
             }
-            return true;
-        }
-
-        private boolean viewsDiffer(int s, int t, int g) {
-            int mark = types.mark();
-            int one = shapes.viewedAs(s, g);
-            int other = shapes.viewedAs(t, g);
-            boolean differ = false;
-            if (types.sortOf(one) == OF && types.sortOf(other) == OF) {
-                differ = argumentsDiffer(types.firstOf(one), types.firstOf(other))
-                        || argumentsDiffer(types.secondOf(one), types.secondOf(other));
-            }
             types.dropTo(mark);
-            return differ;
+            return yes;
         }
 
-        private boolean argumentsDiffer(int a, int b) {
+        /** Whether two TYPES of one CLASS are of ARGUMENTS that DIFFER at a place. */
+        private boolean differ(int one, int other, int place) {
+            if (types.sortOf(one) != OF || types.sortOf(other) != OF) {
+                return false;
+            }
+            int a = types.argumentOf(one, place);
+            int b = types.argumentOf(other, place);
             if (a == b) {
                 return false;
             }
@@ -1123,7 +1084,9 @@ public final class CaptureSubtypes {
             }
             for (int i = 0; i < facetCount(a); i++) {
                 for (int k = 0; k < facetCount(b); k++) {
-                    if (!isEitherWay(facet(a, i), facet(b, k), LEVELS)) {
+                    int x = shapes.erasure(facet(a, i), PART_LEVELS);
+                    int y = shapes.erasure(facet(b, k), PART_LEVELS);
+                    if (!order.isOne(x, y, LEVELS) && !order.isOne(y, x, LEVELS)) {
                         return true;
                     }
                 }
@@ -1137,8 +1100,7 @@ public final class CaptureSubtypes {
         }
 
         private int facet(int t, int place) {
-            int whole = types.isVariable(t) ? shapes.boundOf(t, place) : t;
-            return shapes.erasure(whole, Shapes.PART_LEVELS);
+            return types.isVariable(t) ? shapes.boundOf(t, place) : t;
         }
     }
 }
