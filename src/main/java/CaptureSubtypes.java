@@ -746,6 +746,9 @@ public final class CaptureSubtypes {
         }
 
         private int nameAlone(int c) {
+            if (!classes.has(c)) {
+                return FULL;
+            }
             return types.put(classes.nameSort(c), c, NONE, NONE, Types.ROOM);
         }
 

@@ -190,6 +190,8 @@ public final class CaptureSubtypesPromises {
     due("BAD ahead of FULL", x.inherit(c, INT), BAD);
     due("FULL ahead of CLASH", x.inherit(c, x.plain(face)), FULL);
     due("a face below a bare face", x.inherit(mid, x.plain(face)), 1);
+    due("a face below a second one", x.inherit(mid, x.plain(face)), 2);
+    due("a face below a third one", x.inherit(mid, x.plain(face)), FULL);
     due("a last class has supers", x.inherit(last, x.of(face, x.plain(last), 0)), 1);
     due("a sealed class as super", x.inherit(later, x.plain(sealed)), 1);
     due("below all along", x.below(c, face), 1);
@@ -568,11 +570,15 @@ public final class CaptureSubtypesPromises {
     x.inherit(leaf, x.plain(family));
     due("a heir in both", x.apart(top, family), 0);
     due("a heir in both, the other way", x.apart(family, top), 0);
+    int newest = x.declare(CLASS, 0);
+    due("the class declared last", x.apart(newest, a), 1);
+    due("the class declared last, the other way", x.apart(a, newest), 1);
+    due("itself", x.apart(newest, newest), 0);
     for (int far : FAR) {
       due("first far off", x.apart(far, 0), BAD);
       due("second far off", x.apart(0, far), BAD);
     }
-    due("no class", x.apart(10, 0), BAD);
+    due("no class", x.apart(x.count(0), 0), BAD);
   }
 
   private static void isOfSimpleTypes() {
@@ -588,6 +594,8 @@ public final class CaptureSubtypesPromises {
     int vs = x.row(v1), grid = x.row(ints);
     due("below", x.is(dType, faceType), 1);
     due("not above", x.is(faceType, dType), 0);
+    due("OBJECT is OBJECT", x.is(OBJECT, OBJECT), 1);
+    due("OBJECT is none else", x.is(OBJECT, faceType), 0);
     due("NULL is a class", x.is(NULL, dType), 1);
     due("NULL is a VARIABLE", x.is(NULL, v0), 1);
     due("NULL is a row", x.is(NULL, ints), 1);
@@ -660,6 +668,11 @@ public final class CaptureSubtypesPromises {
     int ownA = x.of(own, aType, 0);
     due("down to itself", x.is(ownA, x.of(cmp, x.wild(DOWN, ownA), 0)), 1);
     due("a row of such", x.is(x.row(subUpB), x.row(listUpA)), 1);
+    due("a row is not of its argument", x.is(x.row(aType), listA), 0);
+    due("nor the other way", x.is(listA, x.row(aType)), 0);
+    int listDownObject = x.of(list, x.wild(DOWN, OBJECT), 0);
+    due("down to OBJECT", x.is(x.of(list, OBJECT, 0), listDownObject), 1);
+    due("down to OBJECT, caught", x.is(x.of(sub, x.wild(DOWN, OBJECT), 0), listDownObject), 1);
   }
 
   private static void isWithCaughtBounds() {
@@ -681,6 +694,13 @@ public final class CaptureSubtypesPromises {
     due("any has the parameter's first bound", x.is(x.of(two, any, 0), listUpA), 1);
     due("and its second", x.is(x.of(two, any, 0), listUpB), 1);
     due("up to comes with the bounds", x.is(x.of(two, upB, 0), listUpA), 1);
+    int strange = x.of(two, x.wild(UP, x.of(list, any, 0)), 0);
+    due("up to comes ahead of the first bound", x.is(strange, listUpA), 1);
+    due("and of the second", x.is(strange, listUpB), 1);
+    due("and is one of them", x.is(strange, x.of(list, x.wild(UP, x.of(list, any, 0)), 0)), 1);
+    due("OBJECT beside a caught one", x.is(x.of(pair, OBJECT, any), x.of(list, any, 0)), 1);
+    due("a caught one beside OBJECT",
+        x.is(x.of(pair, any, OBJECT), x.of(list, OBJECT, 0)), 1);
     int both = x.of(pair, any, any), listListUpA = x.of(list, x.wild(UP, listUpA), 0);
     due("bounds with the caught one put in", x.is(both, listListUpA), 1);
     due("bounds with an argument put in",
@@ -717,6 +737,7 @@ public final class CaptureSubtypesPromises {
     due("rows are not unchecked", x.is(x.row(bare), x.row(listA)), 0);
     due("arguments that are not the same", x.is(x.of(sub, 0, 0), listA), 0);
     due("NULL IS", x.is(NULL, listA), 1);
+    due("a VARIABLE without bounds", x.is(x.variable(list, 0), listA), 0);
   }
 
   private static void may() {
@@ -802,6 +823,11 @@ public final class CaptureSubtypesPromises {
     due("arguments with wild parts",
         x.may(x.of(list, x.of(list, any, 0), 0), x.of(list, listB, 0)), 0);
     due("any with a parameter's bound", x.may(x.of(right, any, 0), x.of(list, dType, 0)), 0);
+    due("a row and what is of its argument", x.may(x.row(aType), listA), 0);
+    int two = x.declare(FACE, 2);
+    due("the second argument differs", x.may(x.of(two, any, aType), x.of(two, aType, bType)), 0);
+    due("the first argument differs", x.may(x.of(two, bType, any), x.of(two, aType, aType)), 0);
+    due("neither differs", x.may(x.of(two, bType, any), x.of(two, any, aType)), 1);
   }
 
   private static void mayWithRows() {
@@ -850,6 +876,8 @@ public final class CaptureSubtypesPromises {
     int pairD = x.of(pair, rowD, dType);
     due("two up, there", x.as(ofC, pair), pairD);
     due("bare: not there", x.as(bareC, pair), FULL);
+    int objects = x.of(c, dType, OBJECT), rows = x.of(pair, x.row(OBJECT), OBJECT);
+    due("OBJECT put in", x.as(objects, pair), rows);
     int barePair = x.plain(pair);
     due("bare: there", x.as(bareC, pair), barePair);
     due("bare itself", x.as(bareC, c), bareC);
@@ -912,6 +940,7 @@ public final class CaptureSubtypesPromises {
     x.bind(c, 1, bare);
     due("a second bound does not count", x.erased(v1), bare);
     due("a row of INT", x.erased(ints), ints);
+    due("a row of OBJECT", x.erased(x.row(OBJECT)), x.row(OBJECT));
     int rowV = x.row(v1);
     due("a row, not there", x.erased(rowV), FULL);
     int bareRow = x.row(bare);
