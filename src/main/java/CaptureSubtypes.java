@@ -56,7 +56,7 @@ public final class CaptureSubtypes {
     }
 
     public int inherit(int c, int type) {
-        if (!maySucceed(c, type)) {
+        if (!mayBeSuper(c, type)) {
             return BAD;
         }
         int parent = types.ownerOf(type);
@@ -75,7 +75,7 @@ public final class CaptureSubtypes {
     }
 
     public int bind(int c, int i, int type) {
-        if (!classes.hasParameter(c, i) || !mayBound(c, i, type)) {
+        if (!classes.hasParameter(c, i) || !mayBeBound(c, i, type)) {
             return BAD;
         }
         return classes.addBound(c, i, type);
@@ -241,7 +241,7 @@ public final class CaptureSubtypes {
         return answer;
     }
 
-    private boolean maySucceed(int c, int type) {
+    private boolean mayBeSuper(int c, int type) {
         if (!classes.has(c) || !types.has(type) || type == OBJECT || !types.isOfClass(type)) {
             return false;
         }
@@ -252,7 +252,7 @@ public final class CaptureSubtypes {
         return classes.isFace(parent) || !classes.isFace(c);
     }
 
-    private boolean mayBound(int c, int i, int type) {
+    private boolean mayBeBound(int c, int i, int type) {
         if (!types.has(type) || type == OBJECT || !types.isInWordsOf(type, c)) {
             return false;
         }
@@ -728,7 +728,7 @@ public final class CaptureSubtypes {
             this.types = types;
         }
 
-        int erasure(int t, int level) {
+        private int erasure(int t, int level) {
             if (level <= 0) {
                 return FULL;
             }
@@ -771,7 +771,7 @@ public final class CaptureSubtypes {
         }
 
         /** A TYPE in the words of home's CLASS, with home's ARGUMENTS put in for PARAMETERS. */
-        int putIn(int t, int home, int level) {
+        private int putIn(int t, int home, int level) {
             int sort = types.sortOf(t);
             if (level <= 0) {
                 return FULL;
@@ -871,7 +871,7 @@ public final class CaptureSubtypes {
             this.shapes = shapes;
         }
 
-        boolean isOne(int s, int t, int level) {
+        private boolean isOne(int s, int t, int level) {
             if (level <= 0 || s < 0 || t < 0) {
                 return false;
             }
@@ -947,7 +947,7 @@ public final class CaptureSubtypes {
             }
         }
 
-        boolean isUnchecked(int s, int t, int level) {
+        private boolean isUnchecked(int s, int t, int level) {
             if (level <= 0 || types.sortOf(t) != OF) {
                 return false;
             }
@@ -1009,7 +1009,7 @@ public final class CaptureSubtypes {
             this.order = order;
         }
 
-        boolean mayTurn(int s, int t, int level) {
+        private boolean mayTurn(int s, int t, int level) {
             if (level <= 0) {
                 return false;
             }
