@@ -614,16 +614,64 @@ public final class CaptureSubtypesModel {
         x = richType(r, m);
         y = f == 15 ? cls(r, m) : richType(r, m);
       }
-      int due = m.call(f, x, y, z);
-      int got = ask(o, f, x, y, z);
-      answered[f * 10 + Math.max(0, Math.min(9, due + 5))]++;
-      if (got != due) {
-        wrong++;
-        System.out.println("seed " + seed + ", call " + call + ": " + NAMES[f] + "(" + x + ", " + y
-            + ", " + z + ") answered " + got + ", due is " + due);
-        return;
-      }
+      if (!agree(m, o, "run " + seed + ", call " + call, f, x, y, z)) return;
     }
+  }
+
+  static boolean agree(Model m, CaptureSubtypes o, String where, int f, int x, int y, int z) {
+    int due = m.call(f, x, y, z);
+    int got = ask(o, f, x, y, z);
+    answered[f * 10 + Math.max(0, Math.min(9, due + 5))]++;
+    if (got == due) return true;
+    wrong++;
+    System.out.println(where + ": " + NAMES[f] + "(" + x + ", " + y + ", " + z + ") answered " + got
+        + ", due is " + due);
+    return false;
+  }
+
+  /** Few classes with bounds of themselves, and wilds inside wilds as deep as they go. */
+  static void deepRun(int seed) {
+    Random r = new Random(seed * 0xD1342543DE82EF95L + 1);
+    Model m = new Model();
+    CaptureSubtypes o = new CaptureSubtypes();
+    String where = "deep run " + seed;
+    int classes = 2 + r.nextInt(4);
+    boolean same = true;
+    for (int c = 1; c <= classes; c++) {
+      same &= agree(m, o, where, 0, r.nextBoolean() ? 3 : 0, r.nextInt(5) == 0 ? 0 : 1 + r.nextInt(2), 0);
+    }
+    for (int c = 1; c <= classes; c++) {
+      for (int i = 0; i < 2; i++) same &= agree(m, o, where, 6, c, i, 0);
+      if (r.nextInt(3) == 0) same &= agree(m, o, where, 3, c, 0, 0);
+    }
+    for (int k = 0; k < 12; k++) {
+      same &= agree(m, o, where, 4, 1 + r.nextInt(classes), richType(r, m), richType(r, m));
+    }
+    for (int k = 0; k < 60; k++) {
+      int c = 1 + r.nextInt(classes), t = word(r, m, c);
+      if (r.nextBoolean()) same &= agree(m, o, where, 1, c, t, 0);
+      else same &= agree(m, o, where, 2, c, r.nextInt(2), r.nextInt(4) == 0 ? richType(r, m) : t);
+    }
+    same &= agree(m, o, where, 5, 0, 0, 0);
+    for (int k = 0; k < 150; k++) {
+      int draw = r.nextInt(10);
+      if (draw < 4) same &= agree(m, o, where, 5, 1 + r.nextInt(2), richType(r, m), 0);
+      else if (draw < 9) same &= agree(m, o, where, 4, 1 + r.nextInt(classes), lateWild(r, m), lateWild(r, m));
+      else same &= agree(m, o, where, 7, richType(r, m), 0, 0);
+    }
+    int[] askers = {13, 13, 14, 15, 17};
+    for (int k = 0; k < 250 && same; k++) {
+      int f = askers[r.nextInt(askers.length)];
+      same = agree(m, o, where, f, richType(r, m), f == 15 ? r.nextInt(classes + 1) : richType(r, m), 0);
+    }
+  }
+
+  static int lateWild(Random r, Model m) {
+    for (int tries = 0; tries < 6; tries++) {
+      int n = m.types.size() - 1 - r.nextInt(Math.min(m.types.size(), 30));
+      if (m.at(n).sort == 5) return n;
+    }
+    return richType(r, m);
   }
 
   /** A comparison that never meets an answer shows nothing of it. */
@@ -638,7 +686,10 @@ public final class CaptureSubtypesModel {
 
   public static void main(String[] args) {
     int runs = args.length > 0 ? Integer.parseInt(args[0]) : RUNS;
-    for (int seed = 0; seed < runs && wrong < 20; seed++) run(seed);
+    for (int seed = 0; seed < runs && wrong < 20; seed++) {
+      run(seed);
+      deepRun(seed);
+    }
     for (int answer : new int[] {BAD, 0, 1, 2}) expectMet("is", answer);
     for (int answer : new int[] {BAD, 0, 1}) expectMet("may", answer);
     for (int answer : new int[] {BAD, 0, 1}) expectMet("good", answer);
