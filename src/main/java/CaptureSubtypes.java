@@ -24,7 +24,7 @@ public final class CaptureSubtypes {
      */
     private static final int LEVELS = 40;
 
-    /** How far into a TYPE'S parts: TYPES that are there are 6 deep, VARIABLES lead on to more. */
+    /** How far into a SUPER'S or a BOUND'S parts, which nest 6 deep; what is put in is not entered. */
     private static final int PART_LEVELS = 20;
 
     private final Classes classes;
@@ -222,7 +222,7 @@ public final class CaptureSubtypes {
         if (!types.standsAlone(type) || type == INT || type == NULL) {
             return BAD;
         }
-        return settle(shapes.erasure(type, PART_LEVELS));
+        return settle(shapes.erasure(type));
     }
 
     public int good(int type) {
@@ -728,19 +728,31 @@ public final class CaptureSubtypes {
             this.types = types;
         }
 
-        private int erasure(int t, int level) {
-            if (level <= 0) {
-                return FULL;
+        /**
+         * A loop, as an AS may be of ARGUMENTS far more ROWS deep than a TYPE that is there: each
+         * SUPER on the way up adds its own. A VARIABLE inside may stand for further ROWS.
+         */
+        int erasure(int t) {
+            int core = t;
+            int rows = 0;
+            for (int step = 0; step < Types.ROOM; step++) {
+                if (types.isVariable(core)) {
+                    core = boundOf(core, 0);
+                } else if (types.sortOf(core) == ROW) {
+                    core = types.firstOf(core);
+                    rows++;
+                } else {
+                    int name = types.isOfClass(core) ? nameAlone(types.ownerOf(core)) : core;
+                    return inRows(name, rows);
+                }
             }
-            if (types.isOfClass(t)) {
-                return nameAlone(types.ownerOf(t));
-            }
-            if (types.isVariable(t)) {
-                return erasure(boundOf(t, 0), level - 1);
-            }
-            if (types.sortOf(t) == ROW) {
-                int part = erasure(types.firstOf(t), level - 1);
-                return part < 0 ? FULL : types.put(ROW, NONE, part, NONE, Types.ROOM);
+            return FULL;
+        }
+
+        private int inRows(int core, int rows) {
+            int t = core;
+            for (int row = 0; row < rows && t >= 0; row++) {
+                t = types.put(ROW, NONE, t, NONE, Types.ROOM);
             }
             return t;
         }
@@ -1087,8 +1099,8 @@ public final class CaptureSubtypes {
             }
             for (int i = 0; i < facetCount(a); i++) {
                 for (int k = 0; k < facetCount(b); k++) {
-                    int x = shapes.erasure(facet(a, i), PART_LEVELS);
-                    int y = shapes.erasure(facet(b, k), PART_LEVELS);
+                    int x = shapes.erasure(facet(a, i));
+                    int y = shapes.erasure(facet(b, k));
                     if (!order.isOne(x, y, LEVELS) && !order.isOne(y, x, LEVELS)) {
                         return true;
                     }
