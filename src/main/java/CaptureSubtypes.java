@@ -19,12 +19,12 @@ public final class CaptureSubtypes {
 
     /**
      * How far IS and MAY go into parts. SUPERS and BOUNDS have no WILD parts, so that each step
-     * through a WILD argument uses up one of the few of the two types asked about: no question
-     * comes near this guard.
+     * through a WILD argument uses up one of the few of the two types asked about; and however
+     * deep an AS is, it is held against what is there, 6 deep: no question comes near this guard.
      */
     private static final int LEVELS = 40;
 
-    /** How far into a SUPER'S or a BOUND'S parts, which nest 6 deep; what is put in is not entered. */
+    /** How far into the parts of SUPERS and BOUNDS: 6 deep, as what is put in is not entered. */
     private static final int PART_LEVELS = 20;
 
     private final Classes classes;

@@ -619,14 +619,9 @@ public final class CaptureSubtypesModel {
   }
 
   static boolean agree(Model m, CaptureSubtypes o, String where, int f, int x, int y, int z) {
-    int due = m.call(f, x, y, z);
-    int got = ask(o, f, x, y, z);
-    answered[f * 10 + Math.max(0, Math.min(9, due + 5))]++;
-    if (got == due) return true;
-    wrong++;
-    System.out.println(where + ": " + NAMES[f] + "(" + x + ", " + y + ", " + z + ") answered " + got
-        + ", due is " + due);
-    return false;
+    int before = wrong;
+    both(m, o, where, f, x, y, z);
+    return wrong == before;
   }
 
   /** Few classes with bounds of themselves, and wilds inside wilds as deep as they go. */
@@ -666,6 +661,76 @@ public final class CaptureSubtypesModel {
     }
   }
 
+  /**
+   * Classes in a chain, each above the next with rows and classes around its variables, so that
+   * the view from the first of them is of arguments far deeper than any type that is there.
+   */
+  static void chainRun(int seed) {
+    Random r = new Random(seed * 0xA0761D6478BD642FL + 7);
+    Model m = new Model();
+    CaptureSubtypes o = new CaptureSubtypes();
+    String where = "chain run " + seed;
+    int before = wrong;
+    int classes = 5 + r.nextInt(7), faces = r.nextInt(classes + 1);
+    boolean onlyRows = r.nextBoolean();
+    for (int c = 1; c <= classes; c++) {
+      both(m, o, where, 0, c <= faces ? 3 : 0, r.nextInt(6) == 0 ? 2 : 1, 0);
+    }
+    for (int c = 2; c <= classes; c++) {
+      int first = wrapped(r, m, o, where, both(m, o, where, 6, c, 0, 0), 4, onlyRows);
+      int other = m.classes.get(c).parameters == 2 ? both(m, o, where, 6, c, 1, 0) : first;
+      both(m, o, where, 1, c, both(m, o, where, 4, c - 1, first, other), 0);
+    }
+    for (int k = 0; k < 4; k++) {
+      int c = richClass(r, m);
+      both(m, o, where, 2, c, r.nextInt(2), word(r, m, c));
+    }
+    int any = both(m, o, where, 5, 0, 0, 0);
+    for (int k = 0; k < 30; k++) {
+      int c = r.nextInt(3) == 0 ? 1 : r.nextBoolean() ? classes : 1 + r.nextInt(classes);
+      int x = wrapped(r, m, o, where, richType(r, m), r.nextInt(4), onlyRows);
+      if (r.nextInt(3) == 0) x = both(m, o, where, 5, 1 + r.nextInt(2), x, 0);
+      if (r.nextInt(8) == 0) x = any;
+      both(m, o, where, 4, c, r.nextInt(5) == 0 ? both(m, o, where, 6, c, 0, 0) : x, richType(r, m));
+    }
+    int[] askers = {13, 14, 14, 14, 15, 16, 17};
+    for (int k = 0; k < 200 && wrong == before; k++) {
+      int f = askers[r.nextInt(askers.length)];
+      both(m, o, where, f, richType(r, m), f == 15 ? r.nextInt(classes + 1) : richType(r, m), 0);
+    }
+  }
+
+  /** The type with rows or classes of one argument around it; as it is where there is no room. */
+  static int wrapped(
+      Random r, Model m, CaptureSubtypes o, String where, int type, int times, boolean onlyRows) {
+    int t = type;
+    for (int k = 0; k < times; k++) {
+      int next = onlyRows || r.nextInt(4) > 0
+          ? both(m, o, where, 7, t, 0, 0)
+          : both(m, o, where, 4, richClass(r, m), t, t);
+      if (next < 0) return t;
+      t = next;
+    }
+    return t;
+  }
+
+  /** The answer that both are to give. */
+  static int both(Model m, CaptureSubtypes o, String where, int f, int x, int y, int z) {
+    int due = m.call(f, x, y, z);
+    int got = ask(o, f, x, y, z);
+    met(f, due);
+    if (got != due) {
+      wrong++;
+      System.out.println(where + ": " + NAMES[f] + "(" + x + ", " + y + ", " + z + ") answered "
+          + got + ", due is " + due);
+    }
+    return due;
+  }
+
+  static void met(int f, int answer) {
+    answered[f * 10 + Math.max(0, Math.min(9, answer + 5))]++;
+  }
+
   static int lateWild(Random r, Model m) {
     for (int tries = 0; tries < 6; tries++) {
       int n = m.types.size() - 1 - r.nextInt(Math.min(m.types.size(), 30));
@@ -689,6 +754,7 @@ public final class CaptureSubtypesModel {
     for (int seed = 0; seed < runs && wrong < 20; seed++) {
       run(seed);
       deepRun(seed);
+      chainRun(seed);
     }
     for (int answer : new int[] {BAD, 0, 1, 2}) expectMet("is", answer);
     for (int answer : new int[] {BAD, 0, 1}) expectMet("may", answer);

@@ -46,6 +46,7 @@ public final class CaptureSubtypesPromises {
     may();
     mayWithArguments();
     mayWithRows();
+    mayWithDeepRows();
     as();
     erased();
     good();
@@ -853,6 +854,48 @@ public final class CaptureSubtypesPromises {
     due("a VARIABLE and a row", x.may(free, aRow), 1);
     due("a VARIABLE with a bound and a row", x.may(bound, aRow), 0);
     due("rows of VARIABLES", x.may(x.row(free), x.row(bound)), 1);
+  }
+
+  private static int rows(CaptureSubtypes x, int type, int times) {
+    int t = type;
+    for (int k = 0; k < times; k++) t = x.row(t);
+    return t;
+  }
+
+  /** All twelve CLASSES in a chain, each step 4 ROWS: AS 1 is of an ARGUMENT 40 ROWS deeper. */
+  private static void mayWithDeepRows() {
+    promise = 17;
+    CaptureSubtypes x = new CaptureSubtypes();
+    for (int c = 1; c <= 10; c++) x.declare(FACE, 1);
+    int low = x.declare(FACE, 2), name = x.plain(1);
+    for (int c = 2; c <= low; c++) {
+      due("a step of 4 rows", x.inherit(c, x.of(c - 1, rows(x, x.variable(c, 0), 4), 0)), 1);
+    }
+    due("a bound", x.bind(low, 1, name), 1);
+    int any = x.wild(ANY, 0), free = x.of(1, x.variable(low, 0), 0);
+    int bound = x.of(1, x.variable(low, 1), 0), ofAny = x.of(1, any, 0);
+    int threeRows = x.of(1, x.wild(UP, rows(x, OBJECT, 3)), 0);
+    int threeNames = x.of(1, x.wild(UP, rows(x, name, 3)), 0);
+    int[] firsts = {
+      OBJECT, rows(x, OBJECT, 4), rows(x, INT, 4), rows(x, name, 4), any, x.variable(low, 0),
+      x.variable(low, 1), x.wild(UP, rows(x, OBJECT, 3)), x.wild(UP, rows(x, INT, 3)),
+      x.wild(UP, rows(x, x.variable(low, 1), 3)), x.wild(DOWN, rows(x, name, 3))
+    };
+    for (int first : firsts) {
+      int deep = x.of(low, first, any);
+      due("deep rows and a VARIABLE", x.may(deep, free), 1);
+      due("a VARIABLE and deep rows", x.may(free, deep), 1);
+      due("deep rows are no VARIABLE", x.is(deep, free), 0);
+      due("deep rows and a VARIABLE with a bound", x.may(deep, bound), 0);
+      due("a VARIABLE with a bound and deep rows", x.may(bound, deep), 0);
+      due("deep rows and any", x.may(deep, ofAny), 1);
+      due("any and deep rows", x.may(ofAny, deep), 1);
+      due("deep rows up to fewer", x.is(deep, threeRows), 1);
+      due("fewer down to deep rows", x.may(threeRows, deep), 1);
+      due("deep rows and fewer of another", x.may(deep, threeNames), 0);
+      due("fewer of another and deep rows", x.may(threeNames, deep), 0);
+      due("deep rows and fewer, no VARIABLE", x.may(deep, x.of(1, rows(x, OBJECT, 3), 0)), 0);
+    }
   }
 
   private static void as() {
