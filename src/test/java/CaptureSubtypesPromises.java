@@ -1,34 +1,16 @@
-import java.util.ArrayList;
+import java.util.Arrays;
 import java.util.List;
 
-/** The document's promises one by one: ordinary inputs, edges, wrong inputs. */
-public final class CaptureSubtypesPromises {
-  private static final int NONE = -1, BAD = -2, FULL = -3, DEEP = -4, CLASH = -5;
-  private static final int OBJECT = 0, INT = 1, NULL = 2;
-  private static final int CLASS = 0, LAST = 1, SEALED = 2, FACE = 3, SEALED_FACE = 4;
-  private static final int ANY = 0, UP = 1, DOWN = 2;
-  private static final int[] FAR = {
-    -1, -2, Integer.MIN_VALUE, Integer.MIN_VALUE + 1, 150, 151, 2047, 2048, 4096, 65536,
-    Integer.MAX_VALUE, Integer.MAX_VALUE - 1
-  };
-
-  private static int wrong = 0;
-  private static int promise = 0;
-
-  private static void due(String what, int got, int want) {
-    if (got != want) {
-      wrong++;
-      System.out.println("promise " + promise + ": " + what + ": " + got + ", due is " + want);
-    }
-  }
-
-  public static void main(String[] args) {
+/** The document's promises: each sentence has a test of its own, which bears its words. */
+public final class CaptureSubtypesPromises extends Sentences {
+  public static void main(String[] args) throws Exception {
     newObject();
     clear();
     declare();
     inherit();
-    inheritClash();
+    inheritRefused();
     bind();
+    bindRefused();
     plain();
     of();
     wild();
@@ -39,1016 +21,1020 @@ public final class CaptureSubtypesPromises {
     known();
     below();
     apart();
-    isOfSimpleTypes();
-    isWithWilds();
-    isWithCaughtBounds();
-    isUnchecked();
+    is();
     may();
-    mayWithArguments();
-    mayWithRows();
-    mayWithDeepRows();
     as();
     erased();
     good();
-    refusalsChangeNothing();
-    System.out.println(wrong == 0 ? "all promises hold" : wrong + " answers are not as due");
-    if (wrong != 0) System.exit(1);
+    finish("Promise");
   }
 
-  /** All that can be asked without changing anything. */
-  private static List<Integer> picture(CaptureSubtypes x) {
-    List<Integer> all = new ArrayList<>();
-    int classes = x.count(0), types = x.count(1);
-    all.add(classes);
-    all.add(types);
-    for (int c = 0; c < classes; c++) {
-      for (int what = 0; what < 4; what++) all.add(x.known(c, what));
-      for (int d = 0; d < classes; d++) {
-        all.add(x.below(c, d));
-        all.add(x.apart(c, d));
-      }
-    }
-    for (int s = 0; s < types; s++) {
-      for (int what = 0; what < 5; what++) all.add(x.told(s, what));
-      for (int t = 0; t < types; t++) {
-        all.add(x.is(s, t));
-        all.add(x.may(s, t));
-      }
-      for (int d = 0; d < classes; d++) all.add(x.as(s, d));
-      all.add(x.erased(s));
-      all.add(x.good(s));
-    }
-    return all;
-  }
+  // ---------------------------------------------------------------- promises 1 to 5
 
   private static void newObject() {
-    promise = 1;
-    CaptureSubtypes x = new CaptureSubtypes();
-    due("classes", x.count(0), 1);
-    due("types", x.count(1), 3);
-    due("OBJECT'S sort", x.told(OBJECT, 0), 0);
-    due("OBJECT'S class", x.told(OBJECT, 1), 0);
-    due("INT'S sort", x.told(INT, 0), 6);
-    due("NULL'S sort", x.told(NULL, 0), 7);
-    due("class 0's kind", x.known(0, 0), CLASS);
-    due("class 0's parameters", x.known(0, 1), 0);
-    due("class 0's heirs", x.known(0, 2), 0);
-    due("below class 0", x.known(0, 3), 1);
-    CaptureSubtypes y = new CaptureSubtypes();
-    y.declare(CLASS, 1);
-    y.plain(1);
-    due("another object's classes", x.count(0), 1);
-    due("another object's types", x.count(1), 3);
+    in("Promise 1");
+    test("OBJECT; TYPES 0, 1, 2.", x -> {
+      x.due("one CLASS", x.count(0), 1);
+      x.due("its KIND", x.known(0, 0), CLASS);
+      x.due("its PARAMETERS", x.known(0, 1), 0);
+      x.due("its HEIRS", x.known(0, 2), 0);
+      x.due("BELOW it", x.known(0, 3), 1);
+      x.due("three TYPES", x.count(1), 3);
+      x.due("OBJECT", x.told(0, 0), 0);
+      x.due("INT", x.told(1, 0), 6);
+      x.due("NULL", x.told(2, 0), 7);
+      Run other = new Run();
+      other.declare(CLASS, 1);
+      other.variable(1, 0);
+      x.due("another object's CLASS", x.count(0), 1);
+      x.due("another object's TYPE", x.count(1), 3);
+    });
   }
 
   private static void clear() {
-    promise = 2;
-    CaptureSubtypes x = new CaptureSubtypes();
-    due("clear a new one", x.clear(), 1);
-    x.declare(FACE, 2);
-    x.declare(SEALED, 1);
-    x.bind(2, 0, x.plain(1));
-    x.inherit(2, x.plain(1));
-    x.row(x.of(1, x.wild(ANY, 0), x.variable(1, 1)));
-    due("clear", x.clear(), 3);
-    due("as a new one", picture(x).equals(picture(new CaptureSubtypes())) ? 1 : 0, 1);
-    due("declare again", x.declare(CLASS, 1), 1);
-    due("declare a second again", x.declare(CLASS, 1), 2);
-    due("no super is left", x.below(2, 1), 0);
-    due("heirs of OBJECT", x.known(0, 2), 2);
-    due("types begin again", x.variable(2, 0), 3);
-    due("no bound is left", x.erased(3), OBJECT);
-    due("clear again", x.clear(), 3);
-    due("a type is gone", x.told(3, 0), BAD);
-    due("a class is gone", x.known(1, 0), BAD);
+    in("Promise 2");
+    test("All as at first:", x -> {
+      int two = x.declare(FACE, 2), sub = x.declare(CLASS, 1), bare = x.plain(two);
+      x.inherit(sub, bare);
+      x.bind(sub, 0, bare);
+      x.of(two, x.wild(ANY, 0), x.row(x.variable(sub, 0)));
+      x.due("clear", x.clear(), 3);
+      x.due("a CLASS that was there", x.of(two, OBJECT, OBJECT), BAD);
+      List<int[]> questions = questions(3, 9);
+      int[] then = x.answers(questions, null);
+      int[] first = new Run().answers(questions, null);
+      if (!Arrays.equals(then, first)) fail("the answers are not those of a new object");
+      x.due("CLASSES begin again", x.declare(CLASS, 1), 1);
+      x.due("and go on", x.declare(CLASS, 1), 2);
+      x.due("TYPES begin again", x.variable(2, 0), 3);
+      x.due("no BOUND is left", x.erased(3), OBJECT);
+      x.due("no SUPER is left", x.below(2, 1), 0);
+      x.due("nor a HEIR", x.known(1, 2), 0);
+      x.due("as many SUPERS as at first", x.inherit(2, x.plain(1)), 1);
+      x.due("as many BOUNDS as at first", x.bind(2, 0, x.plain(1)), 1);
+    });
+    test("how many CLASSES there were.", x -> {
+      x.due("a new object", x.clear(), 1);
+      x.declare(CLASS, 0);
+      x.due("one more", x.clear(), 2);
+      x.due("cleared already", x.clear(), 1);
+      for (int c = 1; c < MOST_CLASSES; c++) x.declare(FACE, 2);
+      fill(x, 1, 60);
+      x.due("all", x.clear(), MOST_CLASSES);
+      for (int c = 1; c < MOST_CLASSES; c++) x.due("room again", x.declare(FACE, 2), c);
+      fill(x, 1, MOST_TYPES);
+      x.due("all, with all TYPES", x.clear(), MOST_CLASSES);
+      x.due("room for TYPES again", x.row(OBJECT), 3);
+    });
   }
 
   private static void declare() {
-    promise = 3;
-    CaptureSubtypes x = new CaptureSubtypes();
-    due("kind -1", x.declare(-1, 0), BAD);
-    due("kind 5", x.declare(5, 0), BAD);
-    due("parameters -1", x.declare(0, -1), BAD);
-    due("parameters 3", x.declare(0, 3), BAD);
-    for (int far : FAR) {
-      due("kind far off", x.declare(far, 0), BAD);
-      due("parameters far off", x.declare(0, far), BAD);
-    }
-    due("none was made", x.count(0), 1);
-    for (int c = 1; c <= 11; c++) {
-      due("declare", x.declare(c % 5, c % 3), c);
-      due("kind", x.known(c, 0), c % 5);
-      due("parameters", x.known(c, 1), c % 3);
-    }
-    due("a thirteenth", x.declare(0, 0), FULL);
-    due("BAD ahead of FULL", x.declare(5, 0), BAD);
-    due("twelve", x.count(0), 12);
-    due("declaring puts in no type", x.count(1), 3);
+    in("Promise 3");
+    test("A CLASS more: its number.", x -> {
+      for (int kind = 0; kind <= 4; kind++) {
+        for (int parameters = 0; parameters <= 2; parameters += 2) {
+          int due = kind * 2 + parameters / 2 + 1;
+          x.due("its number", x.declare(kind, parameters), due);
+          x.due("its KIND", x.known(due, 0), kind);
+          x.due("its PARAMETERS", x.known(due, 1), parameters);
+          x.due("one more", x.count(0), due + 1);
+        }
+      }
+      x.due("no TYPE more", x.count(1), 3);
+    });
+    test("BAD;", x -> {
+      for (int far : FAR) {
+        x.due("KIND far off", x.declare(far, 0), BAD);
+        x.due("PARAMETERS far off", x.declare(0, far), BAD);
+      }
+      x.due("KIND 5", x.declare(5, 0), BAD);
+      x.due("PARAMETERS 3", x.declare(0, 3), BAD);
+      x.due("the greatest of both", x.declare(4, 2), 1);
+      x.due("the least of both", x.declare(0, 0), 2);
+    });
+    test("FULL.", x -> {
+      for (int c = 1; c < MOST_CLASSES; c++) x.due("room", x.declare(c % 5, c % 3), c);
+      for (int kind = 0; kind <= 4; kind++) x.due("no room", x.declare(kind, kind % 3), FULL);
+      x.due("BAD is ahead", x.declare(-1, 0), BAD);
+    });
   }
 
   private static void inherit() {
-    promise = 4;
-    CaptureSubtypes x = new CaptureSubtypes();
-    int face = x.declare(FACE, 1), base = x.declare(CLASS, 1), last = x.declare(LAST, 0);
-    int sealed = x.declare(SEALED, 0), c = x.declare(CLASS, 1), mid = x.declare(FACE, 2);
-    int later = x.declare(CLASS, 0);
-    int v = x.variable(c, 0), other = x.variable(base, 0);
-    int faceV = x.of(face, v, 0), baseRow = x.of(base, x.row(x.of(face, v, 0)), 0);
-    int any = x.wild(ANY, 0), nested = x.of(base, x.of(face, any, 0), 0);
-    due("class none", x.inherit(-1, faceV), BAD);
-    due("class 7", x.inherit(7, faceV), BAD);
-    for (int far : FAR) {
-      due("class far off", x.inherit(far, faceV), BAD);
-      due("type far off", x.inherit(c, far), BAD);
-    }
-    due("type that is none", x.inherit(c, x.count(1)), BAD);
-    due("OBJECT", x.inherit(c, OBJECT), BAD);
-    due("OBJECT for class 0", x.inherit(0, OBJECT), BAD);
-    due("INT", x.inherit(c, INT), BAD);
-    due("NULL", x.inherit(c, NULL), BAD);
-    due("a VARIABLE", x.inherit(c, v), BAD);
-    due("a ROW", x.inherit(c, x.row(x.plain(base))), BAD);
-    due("WILD", x.inherit(c, any), BAD);
-    due("a WILD argument", x.inherit(c, x.of(face, any, 0)), BAD);
-    due("a WILD part further in", x.inherit(c, nested), BAD);
-    due("a WILD part of a row", x.inherit(c, x.of(face, x.row(x.of(face, any, 0)), 0)), BAD);
-    due("itself", x.inherit(c, x.plain(c)), BAD);
-    due("a greater class", x.inherit(c, x.plain(later)), BAD);
-    due("of KIND 1", x.inherit(c, x.plain(last)), BAD);
-    due("another's VARIABLE", x.inherit(c, x.of(face, other, 0)), BAD);
-    due("another's VARIABLE further in", x.inherit(c, x.of(face, x.row(other), 0)), BAD);
-    due("an interface below a class", x.inherit(mid, x.plain(base)), BAD);
-    due("an interface below a sealed class", x.inherit(mid, x.plain(sealed)), BAD);
-    due("OBJECT'S heirs before", x.known(0, 2), 5);
-    due("a face with own VARIABLE", x.inherit(c, faceV), 1);
-    due("OBJECT is a super still", x.known(0, 2), 5);
-    due("a class in place of OBJECT", x.inherit(c, baseRow), 2);
-    due("OBJECT is none any more", x.known(0, 2), 4);
-    due("a second class", x.inherit(c, x.plain(sealed)), FULL);
-    due("the same class", x.inherit(c, baseRow), FULL);
-    due("the same face again", x.inherit(c, faceV), 3);
-    due("a third face", x.inherit(c, faceV), FULL);
-    due("BAD ahead of FULL", x.inherit(c, INT), BAD);
-    due("FULL ahead of CLASH", x.inherit(c, x.plain(face)), FULL);
-    due("a face below a bare face", x.inherit(mid, x.plain(face)), 1);
-    due("a face below a second one", x.inherit(mid, x.plain(face)), 2);
-    due("a face below a third one", x.inherit(mid, x.plain(face)), FULL);
-    due("a last class has supers", x.inherit(last, x.of(face, x.plain(last), 0)), 1);
-    due("a sealed class as super", x.inherit(later, x.plain(sealed)), 1);
-    due("below all along", x.below(c, face), 1);
-    due("below the class", x.below(c, base), 1);
-    due("an argument of its own class", x.as(x.plain(last), face), x.of(face, x.plain(last), 0));
+    in("Promise 4");
+    test("A SUPER more of a CLASS", x -> {
+      int face = x.declare(FACE, 1), base = x.declare(SEALED, 0), c = x.declare(CLASS, 1);
+      int sub = x.declare(SEALED_FACE, 0), f = x.of(face, x.variable(c, 0)), b = x.plain(base);
+      int bare = x.plain(face), a = x.of(c, b), faceB = x.of(face, b), subType = x.plain(sub);
+      x.due("of ARGUMENTS", x.inherit(c, f), 1);
+      x.due("BELOW it", x.below(c, face), 1);
+      x.due("AS it", x.as(a, face), faceB);
+      x.due("PLAIN", x.inherit(c, b), 2);
+      x.due("BELOW it", x.below(c, base), 1);
+      x.due("a HEIR", x.known(base, 2), 1);
+      x.due("BARE", x.inherit(sub, bare), 1);
+      x.due("IS it", x.is(subType, bare), 1);
+      x.due("UNCHECKED", x.is(subType, faceB), 2);
+    });
+    test("(for KINDS 0 to 2 of KIND 0 or 2: in place of OBJECT)", x -> {
+      int base = x.declare(CLASS, 0), sealed = x.declare(SEALED, 0), b = x.plain(base);
+      int s = x.plain(sealed), face = x.declare(FACE, 0), f = x.plain(face);
+      for (int kind = CLASS; kind <= SEALED; kind++) {
+        int c = x.declare(kind, 0);
+        x.due("an heir of OBJECT", x.known(0, 2), 3);
+        x.due("an interface: not in its place", x.inherit(c, f), 1);
+        x.due("an heir of OBJECT still", x.known(0, 2), 3);
+        x.due("in place of it", x.inherit(c, kind == LAST ? b : s), 2);
+        x.due("no heir of OBJECT", x.known(0, 2), 2);
+        x.due("BELOW it still", x.below(c, 0), 1);
+      }
+    });
+    test(": how many it has then that were put in.", x -> {
+      int face = x.declare(FACE, 0), base = x.declare(CLASS, 0), f = x.plain(face);
+      int b = x.plain(base), c = x.declare(CLASS, 0), d = x.declare(LAST, 0);
+      x.due("the class", x.inherit(c, b), 1);
+      x.due("an interface", x.inherit(c, f), 2);
+      x.due("once more", x.inherit(c, f), 3);
+      x.due("of another CLASS", x.inherit(d, f), 1);
+      x.due("the class after it", x.inherit(d, b), 2);
+    });
+    test("FULL;", x -> {
+      int face = x.declare(FACE, 0), base = x.declare(CLASS, 0), f = x.plain(face);
+      int b = x.plain(base), c = x.declare(CLASS, 0), sub = x.declare(SEALED_FACE, 0);
+      x.inherit(c, b);
+      x.due("a second class", x.inherit(c, b), FULL);
+      x.inherit(c, f);
+      x.inherit(c, f);
+      x.due("a third interface", x.inherit(c, f), FULL);
+      x.inherit(sub, f);
+      x.inherit(sub, f);
+      x.due("a third one of an interface", x.inherit(sub, f), FULL);
+    });
+    test("CLASH: AS would not be one.", x -> {
+      int root = x.declare(FACE, 1), base = x.declare(CLASS, 0), c = x.declare(CLASS, 0);
+      int mid = x.declare(FACE, 0), low = x.declare(CLASS, 0), a = x.plain(base);
+      int ofA = x.of(root, a), ofC = x.of(root, x.plain(c)), bare = x.plain(root);
+      x.inherit(base, ofA);
+      x.due("by the class and by itself", x.inherit(c, a), 1);
+      x.due("another one", x.inherit(c, ofC), CLASH);
+      x.due("a BARE one", x.inherit(c, bare), CLASH);
+      x.due("the same", x.inherit(c, ofA), 2);
+      x.due("two steps down", x.inherit(low, x.plain(c)), 1);
+      x.due("with an interface that is free", x.inherit(low, x.plain(mid)), 2);
+      x.due("then that is not free", x.inherit(mid, ofC), CLASH);
+      x.due("but for the same", x.inherit(mid, ofA), 1);
+    });
   }
 
-  private static void inheritClash() {
-    promise = 4;
-    CaptureSubtypes x = new CaptureSubtypes();
-    int face = x.declare(FACE, 1), a = x.declare(CLASS, 0), b = x.declare(CLASS, 0);
-    int heir = x.declare(LAST, 0), two = x.declare(FACE, 2);
-    int ofA = x.of(face, x.plain(a), 0), ofB = x.of(face, x.plain(b), 0);
-    due("a class that has the face", x.inherit(b, ofA), 1);
-    due("another argument", x.inherit(b, ofB), CLASH);
-    due("bare against arguments", x.inherit(b, x.plain(face)), CLASH);
-    due("nothing was put in", x.inherit(b, ofA), 2);
-    due("a heir of b", x.inherit(heir, x.plain(b)), 1);
-    due("a heir of it", x.inherit(heir, ofB), CLASH);
-    due("what it inherits once more", x.inherit(heir, ofA), 2);
-    due("own VARIABLE 0", x.inherit(two, x.of(face, x.variable(two, 0), 0)), 1);
-    due("own VARIABLE 1", x.inherit(two, x.of(face, x.variable(two, 1), 0)), CLASH);
-
-    CaptureSubtypes y = new CaptureSubtypes();
-    int root = y.declare(FACE, 1), left = y.declare(FACE, 0), right = y.declare(FACE, 0);
-    int both = y.declare(FACE, 0);
-    int one = y.of(root, y.plain(left), 0), other = y.of(root, y.plain(right), 0);
-    due("the heir gets the left", y.inherit(both, y.plain(left)), 1);
-    due("the heir gets the right", y.inherit(both, y.plain(right)), 2);
-    due("left gets one", y.inherit(left, one), 1);
-    due("by the heir right cannot get another", y.inherit(right, other), CLASH);
-    due("nothing was put in", y.below(right, root), 0);
-    due("nor counted", y.known(root, 2), 1);
-    due("right gets the same", y.inherit(right, one), 1);
-    due("the heir's view", y.as(y.plain(both), root), one);
+  private static void inheritRefused() {
+    test("BAD:", x -> {
+      int face = x.declare(FACE, 0), c = x.declare(CLASS, 0), f = x.plain(face);
+      for (int far : FAR) {
+        x.due("no CLASS", x.inherit(far, f), BAD);
+        x.due("no TYPE", x.inherit(c, far), BAD);
+      }
+      x.due("the next CLASS", x.inherit(c + 1, f), BAD);
+      x.due("the next TYPE", x.inherit(c, f + 1), BAD);
+      x.due("OBJECT gets none", x.inherit(0, f), BAD);
+    });
+    test("also the TYPE is not PLAIN, BARE or of ARGUMENTS,", x -> {
+      int list = x.declare(FACE, 1), c = x.declare(CLASS, 1), bare = x.plain(list);
+      int v = x.variable(c, 0), row = x.row(bare), any = x.wild(ANY, 0), up = x.wild(UP, bare);
+      for (int t : new int[] {INT, NULL, v, row, any, up}) x.due("none", x.inherit(c, t), BAD);
+    });
+    test("or not of a lesser CLASS,", x -> {
+      int one = x.declare(FACE, 0), two = x.declare(FACE, 1), three = x.declare(FACE, 1);
+      int first = x.plain(one), own = x.plain(two), later = x.plain(three);
+      x.due("itself, BARE", x.inherit(two, own), BAD);
+      x.due("itself", x.inherit(two, x.of(two, x.variable(two, 0))), BAD);
+      x.due("the next", x.inherit(two, later), BAD);
+      x.due("the one before", x.inherit(two, first), 1);
+    });
+    test("or OBJECT,", x -> {
+      int c = x.declare(CLASS, 0), face = x.declare(FACE, 0);
+      x.due("a class", x.inherit(c, OBJECT), BAD);
+      x.due("an interface", x.inherit(face, OBJECT), BAD);
+      x.due("OBJECT itself", x.inherit(0, OBJECT), BAD);
+    });
+    test("or of KIND 1,", x -> {
+      int last = x.declare(LAST, 0), more = x.declare(LAST, 1), l = x.plain(last);
+      int m = x.plain(more), ofL = x.of(more, l);
+      for (int kind = 0; kind <= 4; kind++) {
+        int c = x.declare(kind, 0);
+        for (int t : new int[] {l, m, ofL}) x.due("a last class", x.inherit(c, t), BAD);
+      }
+    });
+    test("or has WILD parts,", x -> {
+      int list = x.declare(FACE, 1), two = x.declare(FACE, 2), c = x.declare(CLASS, 0);
+      int any = x.wild(ANY, 0), some = x.of(list, any), up = x.of(list, x.wild(UP, OBJECT));
+      int down = x.of(list, x.wild(DOWN, OBJECT)), inner = x.of(list, some);
+      int inRow = x.of(list, x.row(some)), second = x.of(two, OBJECT, any);
+      for (int t : new int[] {some, up, down, inner, inRow, second}) {
+        x.due("WILD", x.inherit(c, t), BAD);
+      }
+    });
+    test("or VARIABLES of another CLASS;", x -> {
+      int list = x.declare(FACE, 1), two = x.declare(FACE, 2), c = x.declare(CLASS, 1);
+      int other = x.variable(list, 0), own = x.variable(c, 0), later = x.declare(FACE, 1);
+      int direct = x.of(list, other), inner = x.of(list, direct), inRow = x.of(list, x.row(other));
+      int second = x.of(two, own, other), greater = x.of(list, x.variable(later, 0));
+      for (int t : new int[] {direct, inner, inRow, second, greater}) {
+        x.due("another's", x.inherit(c, t), BAD);
+      }
+      x.due("its own", x.inherit(c, x.of(list, x.row(own))), 1);
+    });
+    test("KINDS do not go;", x -> {
+      int base = x.declare(CLASS, 0), sealed = x.declare(SEALED, 1), b = x.plain(base);
+      int s = x.plain(sealed), ofB = x.of(sealed, b), f = x.plain(x.declare(FACE, 0));
+      int g = x.plain(x.declare(SEALED_FACE, 0));
+      for (int kind = FACE; kind <= SEALED_FACE; kind++) {
+        int c = x.declare(kind, 0);
+        for (int t : new int[] {b, s, ofB}) x.due("an interface and a class", x.inherit(c, t), BAD);
+        x.due("two interfaces", x.inherit(c, f), 1);
+        x.due("a sealed interface", x.inherit(c, g), 2);
+      }
+      for (int kind = CLASS; kind <= SEALED; kind++) {
+        int c = x.declare(kind, 0);
+        x.due("a class and an interface", x.inherit(c, f), 1);
+        x.due("a class and a sealed interface", x.inherit(c, g), 2);
+        x.due("two classes", x.inherit(c, kind == LAST ? ofB : b), 3);
+      }
+    });
   }
 
   private static void bind() {
-    promise = 5;
-    CaptureSubtypes x = new CaptureSubtypes();
-    int face = x.declare(FACE, 1), c = x.declare(CLASS, 2), last = x.declare(LAST, 0);
-    int sealedFace = x.declare(SEALED_FACE, 0), none = x.declare(CLASS, 0);
-    int v0 = x.variable(c, 0), v1 = x.variable(c, 1), other = x.variable(face, 0);
-    int any = x.wild(ANY, 0);
-    int own = x.of(c, v0, v1), lastType = x.plain(last), sealedType = x.plain(sealedFace);
-    due("class none", x.bind(-1, 0, lastType), BAD);
-    due("class 6", x.bind(6, 0, lastType), BAD);
-    due("parameter -1", x.bind(c, -1, lastType), BAD);
-    due("parameter 2", x.bind(c, 2, lastType), BAD);
-    due("parameter 1 of one", x.bind(face, 1, lastType), BAD);
-    due("no parameters", x.bind(none, 0, lastType), BAD);
-    due("OBJECT'S parameter", x.bind(0, 0, lastType), BAD);
-    for (int far : FAR) {
-      due("class far off", x.bind(far, 0, lastType), BAD);
-      due("parameter far off", x.bind(c, far, lastType), BAD);
-      due("type far off", x.bind(c, 0, far), BAD);
-    }
-    due("OBJECT", x.bind(c, 0, OBJECT), BAD);
-    due("INT", x.bind(c, 0, INT), BAD);
-    due("NULL", x.bind(c, 0, NULL), BAD);
-    due("WILD", x.bind(c, 0, any), BAD);
-    due("a ROW", x.bind(c, 0, x.row(lastType)), BAD);
-    due("a WILD argument", x.bind(c, 0, x.of(face, any, 0)), BAD);
-    due("a WILD part", x.bind(c, 0, x.of(face, x.of(face, any, 0), 0)), BAD);
-    due("another's VARIABLE", x.bind(c, 1, other), BAD);
-    due("another's VARIABLE as a part", x.bind(c, 1, x.of(face, other, 0)), BAD);
-    due("VARIABLE 0 of itself", x.bind(c, 0, v0), BAD);
-    due("VARIABLE 0 of 1", x.bind(c, 0, v1), BAD);
-    due("VARIABLE 1 of itself", x.bind(c, 1, v1), BAD);
-    due("VARIABLE 1 of 0", x.bind(c, 1, v0), 1);
-    due("a second one that is a class", x.bind(c, 1, lastType), BAD);
-    due("a second one that is a VARIABLE", x.bind(c, 1, v0), BAD);
-    due("a second one", x.bind(c, 1, sealedType), 2);
-    due("a third one", x.bind(c, 1, sealedType), FULL);
-    due("BAD ahead of FULL", x.bind(c, 1, INT), BAD);
-    due("a bound with itself in it", x.bind(c, 0, own), 1);
-    due("with a greater VARIABLE in it", x.bind(c, 0, x.of(face, v1, 0)), 2);
-    due("of the last kind", x.bind(face, 0, lastType), 1);
-    due("parameter 0 IS its bound", x.is(v0, own), 1);
-    due("and its second one", x.is(v0, x.of(face, v1, 0)), 1);
-    due("parameter 1 IS parameter 0", x.is(v1, v0), 1);
-    due("and what that is", x.is(v1, own), 1);
-    due("and its second bound", x.is(v1, sealedType), 1);
-    due("parameter 0 is not parameter 1", x.is(v0, v1), 0);
+    in("Promise 5");
+    test("A BOUND more of a PARAMETER: how many.", x -> {
+      int face = x.declare(FACE, 1), last = x.declare(LAST, 0), c = x.declare(CLASS, 2);
+      int sealed = x.declare(SEALED_FACE, 0), v = x.variable(c, 0), w = x.variable(c, 1);
+      int l = x.plain(last), f = x.of(face, w), s = x.plain(sealed), bare = x.plain(face);
+      x.due("a class", x.bind(c, 0, l), 1);
+      x.due("IS it", x.is(v, l), 1);
+      x.due("an interface of ARGUMENTS", x.bind(c, 0, f), 2);
+      x.due("IS it", x.is(v, f), 1);
+      x.due("another PARAMETER: a VARIABLE", x.bind(c, 1, v), 1);
+      x.due("IS it", x.is(w, v), 1);
+      x.due("a sealed interface", x.bind(c, 1, s), 2);
+      x.due("IS it", x.is(w, s), 1);
+      x.due("with itself inside", x.bind(face, 0, x.of(face, x.variable(face, 0))), 1);
+      x.due("BARE", x.bind(face, 0, bare), 2);
+    });
+    test("FULL.", x -> {
+      int face = x.declare(FACE, 0), other = x.declare(FACE, 0), c = x.declare(CLASS, 2);
+      int f = x.plain(face), g = x.plain(other);
+      x.due("one", x.bind(c, 1, f), 1);
+      x.due("two", x.bind(c, 1, f), 2);
+      x.due("the same", x.bind(c, 1, f), FULL);
+      x.due("another", x.bind(c, 1, g), FULL);
+      x.due("of another PARAMETER", x.bind(c, 0, g), 1);
+    });
   }
+
+  private static void bindRefused() {
+    test("BAD:", x -> {
+      int face = x.declare(FACE, 0), one = x.declare(CLASS, 1), two = x.declare(CLASS, 2);
+      int f = x.plain(face);
+      for (int far : FAR) {
+        x.due("no CLASS", x.bind(far, 0, f), BAD);
+        x.due("no PARAMETER", x.bind(two, far, f), BAD);
+        x.due("no TYPE", x.bind(two, 0, far), BAD);
+      }
+      x.due("the next CLASS", x.bind(two + 1, 0, f), BAD);
+      x.due("the next PARAMETER of one", x.bind(one, 1, f), BAD);
+      x.due("the next PARAMETER of two", x.bind(two, 2, f), BAD);
+      x.due("a PARAMETER of none", x.bind(face, 0, f), BAD);
+      x.due("a PARAMETER of OBJECT", x.bind(0, 0, f), BAD);
+      x.due("the next TYPE", x.bind(two, 0, f + 1), BAD);
+    });
+    test("also the TYPE is OBJECT, INT, NULL, WILD, a ROW,", x -> {
+      int c = x.declare(CLASS, 1), bare = x.plain(c), any = x.wild(ANY, 0), up = x.wild(UP, bare);
+      int down = x.wild(DOWN, bare), row = x.row(bare), ints = x.row(INT);
+      for (int t : new int[] {OBJECT, INT, NULL, any, up, down, row, ints}) {
+        x.due("none of these", x.bind(c, 0, t), BAD);
+      }
+    });
+    test("or has WILD parts,", x -> {
+      int list = x.declare(FACE, 1), two = x.declare(FACE, 2), c = x.declare(CLASS, 1);
+      int any = x.wild(ANY, 0), some = x.of(list, any), up = x.of(list, x.wild(UP, OBJECT));
+      int inner = x.of(list, some), inRow = x.of(list, x.row(some));
+      int second = x.of(two, OBJECT, any);
+      for (int t : new int[] {some, up, inner, inRow, second}) x.due("WILD", x.bind(c, 0, t), BAD);
+    });
+    test("or VARIABLES of another CLASS,", x -> {
+      int list = x.declare(FACE, 1), two = x.declare(FACE, 2), c = x.declare(CLASS, 2);
+      int other = x.variable(list, 0), first = x.variable(two, 0), own = x.variable(c, 1);
+      int direct = x.of(list, other), inner = x.of(list, x.row(other));
+      int second = x.of(two, own, other);
+      for (int t : new int[] {other, first, direct, inner, second}) {
+        x.due("another's", x.bind(c, 1, t), BAD);
+      }
+      x.due("its own", x.bind(c, 1, x.of(two, own, own)), 1);
+    });
+    test("or is itself a VARIABLE not of lesser number;", x -> {
+      int c = x.declare(CLASS, 2), w = x.variable(c, 1), v = x.variable(c, 0);
+      x.due("0 of 0", x.bind(c, 0, v), BAD);
+      x.due("0 of 1", x.bind(c, 0, w), BAD);
+      x.due("1 of 1", x.bind(c, 1, w), BAD);
+      x.due("1 of 0", x.bind(c, 1, v), 1);
+      x.due("not itself: a greater one as an ARGUMENT", x.bind(c, 0, x.of(c, w, v)), 1);
+    });
+    test("a second one that is not of KIND 3 or 4;", x -> {
+      int face = x.declare(FACE, 0), c = x.declare(CLASS, 2), f = x.plain(face);
+      int a = x.plain(x.declare(CLASS, 0)), l = x.plain(x.declare(LAST, 0));
+      int s = x.plain(x.declare(SEALED, 0)), v = x.variable(c, 0);
+      x.bind(c, 1, f);
+      for (int t : new int[] {a, l, s, v}) x.due("after an interface", x.bind(c, 1, t), BAD);
+      x.bind(c, 0, a);
+      for (int t : new int[] {a, l, s}) x.due("after a class", x.bind(c, 0, t), BAD);
+      x.due("of KIND 3", x.bind(c, 0, f), 2);
+      x.due("of KIND 4", x.bind(c, 1, x.plain(x.declare(SEALED_FACE, 0))), 2);
+      x.due("a third one", x.bind(c, 0, a), BAD);
+    });
+  }
+
+  // ---------------------------------------------------------------- promises 6 to 10
 
   private static void plain() {
-    promise = 6;
-    CaptureSubtypes x = new CaptureSubtypes();
-    due("OBJECT", x.plain(0), OBJECT);
-    due("none", x.plain(1), BAD);
-    due("a class that can never be", x.plain(12), BAD);
-    x.declare(CLASS, 0);
-    x.declare(CLASS, 2);
-    for (int far : FAR) due("far off", x.plain(far), BAD);
-    due("PLAIN", x.plain(1), 3);
-    due("BARE", x.plain(2), 4);
-    due("PLAIN as it is", x.plain(1), 3);
-    due("BARE as it is", x.plain(2), 4);
-    due("PLAIN'S sort", x.told(3, 0), 0);
-    due("BARE'S sort", x.told(4, 0), 1);
-    fill(x);
-    x.declare(CLASS, 0);
-    due("FULL", x.plain(x.count(0) - 1), FULL);
-    due("BAD ahead of FULL", x.plain(12), BAD);
-    due("there at 150", x.plain(2), 4);
-  }
-
-  /** Puts in types until there are 150; the classes in use get two more. */
-  private static void fill(CaptureSubtypes x) {
-    int one = x.declare(FACE, 2);
-    for (int a = 0; a < x.count(1) && x.count(1) < 150; a++) {
-      for (int b = 0; b <= a && x.count(1) < 150; b++) x.of(one, a, b);
-    }
-    due("filled", x.count(1), 150);
+    in("Promise 6");
+    test("PLAIN c, or BARE: its number,", x -> {
+      int a = x.declare(CLASS, 0), b = x.declare(FACE, 1), c = x.declare(LAST, 2);
+      x.due("BARE", x.plain(c), 3);
+      x.due("its sort", x.told(3, 0), 1);
+      x.due("its CLASS", x.told(3, 1), c);
+      x.due("PLAIN", x.plain(a), 4);
+      x.due("its sort", x.told(4, 0), 0);
+      x.due("its CLASS", x.told(4, 1), a);
+      x.due("BARE of one PARAMETER", x.plain(b), 5);
+      x.due("its sort", x.told(5, 0), 1);
+    });
+    test("here and below as it is, if it is there.", x -> {
+      int c = x.declare(CLASS, 2);
+      x.due("OBJECT", x.plain(0), OBJECT);
+      int plain = x.plain(c), any = x.wild(ANY, 0), up = x.wild(UP, plain), v = x.variable(c, 1);
+      int of = x.of(c, up, any), row = x.row(of), many = x.count(1);
+      for (int round = 0; round < 2; round++) {
+        x.due("plain", x.plain(c), plain);
+        x.due("wild any", x.wild(ANY, 0), any);
+        x.due("wild", x.wild(UP, plain), up);
+        x.due("variable", x.variable(c, 1), v);
+        x.due("of", x.of(c, up, any), of);
+        x.due("row", x.row(of), row);
+        x.due("none more", x.count(1), many);
+        fill(x, c, MOST_TYPES);
+        many = MOST_TYPES;
+      }
+    });
+    test("BAD;", x -> {
+      int c = x.declare(CLASS, 0);
+      for (int far : FAR) x.due("no CLASS", x.plain(far), BAD);
+      x.due("the next CLASS", x.plain(c + 1), BAD);
+      x.due("number 12", x.plain(12), BAD);
+    });
+    test("FULL: 150 TYPES.", x -> {
+      int two = x.declare(FACE, 2), c = x.declare(CLASS, 0), d = x.declare(CLASS, 1);
+      fill(x, two, MOST_TYPES - 1);
+      x.due("the last number is 149", x.plain(c), 149);
+      x.due("150 TYPES", x.count(1), 150);
+      x.due("no room", x.plain(d), FULL);
+      x.due("there already", x.plain(c), 149);
+      x.due("OBJECT is there", x.plain(0), OBJECT);
+      x.due("BAD is ahead", x.plain(d + 1), BAD);
+      x.clear();
+      x.declare(CLASS, 1);
+      x.due("room again", x.plain(1), 3);
+    });
   }
 
   private static void of() {
-    promise = 7;
-    CaptureSubtypes x = new CaptureSubtypes();
-    int none = x.declare(CLASS, 0), one = x.declare(FACE, 1), two = x.declare(FACE, 2);
-    due("no parameters", x.of(none, 0, 0), BAD);
-    due("OBJECT", x.of(0, 0, 0), BAD);
-    due("no class", x.of(4, 0, 0), BAD);
-    for (int far : FAR) {
-      due("class far off", x.of(far, 0, 0), BAD);
-      due("first far off", x.of(one, far, 0), BAD);
-      due("first of two far off", x.of(two, far, 0), BAD);
-      due("second far off", x.of(two, 0, far), BAD);
-    }
-    due("INT", x.of(one, INT, 0), BAD);
-    due("NULL", x.of(one, NULL, 0), BAD);
-    due("INT as the second", x.of(two, 0, INT), BAD);
-    due("NULL as the second", x.of(two, 0, NULL), BAD);
-    due("a type that is none", x.of(one, 3, 0), BAD);
-    due("of OBJECT", x.of(one, 0, -7), 3);
-    due("the second does not count", x.of(one, 0, 999), 3);
-    due("two", x.of(two, 0, 3), 4);
-    due("two the other way", x.of(two, 3, 0), 5);
-    due("as it is", x.of(two, 0, 3), 4);
-    due("WILD may stand there", x.of(two, x.wild(ANY, 0), 0), 7);
-    due("a row may", x.of(one, x.row(INT), 0), 9);
-    due("a VARIABLE may", x.of(one, x.variable(one, 0), 0), 11);
-    due("BARE may", x.of(one, x.plain(one), 0), 13);
-    due("depth 2", x.told(3, 4), 2);
-    int t = 3;
-    for (int deep = 3; deep <= 6; deep++) {
-      t = x.of(one, t, 0);
-      due("depth", x.told(t, 4), deep);
-    }
-    due("DEEP", x.of(one, t, 0), DEEP);
-    due("DEEP by the second", x.of(two, 0, t), DEEP);
-    due("DEEP by the first", x.of(two, t, 0), DEEP);
-    due("the second does not count for depth", x.of(one, 0, t), 3);
-    fill(x);
-    due("FULL ahead of DEEP", x.of(one, t, 0), FULL);
-    due("BAD ahead of FULL", x.of(one, INT, 0), BAD);
-    due("there at 150", x.of(two, 3, 0), 5);
+    in("Promise 7");
+    test("c of ARGUMENTS", x -> {
+      int one = x.declare(FACE, 1), two = x.declare(CLASS, 2), any = x.wild(ANY, 0);
+      int a = x.of(one, any), b = x.of(two, any, a), c = x.of(two, a, any), same = x.of(two, a, a);
+      x.due("its sort", x.told(a, 0), 2);
+      x.due("its CLASS", x.told(b, 1), two);
+      x.due("its first", x.told(b, 2), any);
+      x.due("its second", x.told(b, 3), a);
+      x.due("the other way round: its first", x.told(c, 2), a);
+      x.due("the other way round: its second", x.told(c, 3), any);
+      x.due("twice the same", x.told(same, 3), a);
+      x.due("four numbers", x.count(1), same + 1);
+    });
+    test("(b does not count, if it has one PARAMETER).", x -> {
+      int one = x.declare(FACE, 1), two = x.declare(FACE, 2), six = x.rows(OBJECT, 5);
+      int t = x.of(one, OBJECT, 0);
+      for (int b : new int[] {INT, NULL, six, t + 1, -7}) {
+        x.due("as it is", x.of(one, OBJECT, b), t);
+      }
+      for (int far : FAR) x.due("as it is", x.of(one, OBJECT, far), t);
+      x.due("no second", x.told(t, 3), NONE);
+      x.due("not deep", x.told(t, 4), 2);
+      x.due("with two it counts", x.of(two, OBJECT, INT), BAD);
+    });
+    test("BAD:", x -> {
+      int one = x.declare(FACE, 1), two = x.declare(FACE, 2);
+      for (int far : FAR) {
+        x.due("no CLASS", x.of(far, OBJECT, OBJECT), BAD);
+        x.due("no TYPE", x.of(one, far, OBJECT), BAD);
+        x.due("no first TYPE", x.of(two, far, OBJECT), BAD);
+        x.due("no second TYPE", x.of(two, OBJECT, far), BAD);
+      }
+      x.due("the next CLASS", x.of(two + 1, OBJECT, OBJECT), BAD);
+      x.due("the next TYPE", x.of(one, 3), BAD);
+      for (int t : new int[] {INT, NULL}) {
+        x.due("INT, NULL of one", x.of(one, t), BAD);
+        x.due("INT, NULL first", x.of(two, t, OBJECT), BAD);
+        x.due("INT, NULL second", x.of(two, OBJECT, t), BAD);
+      }
+    });
+    test("also it has none;", x -> {
+      int c = x.declare(CLASS, 0), face = x.declare(SEALED_FACE, 0);
+      x.due("OBJECT", x.of(0, OBJECT, OBJECT), BAD);
+      x.due("a class", x.of(c, OBJECT, OBJECT), BAD);
+      x.due("an interface", x.of(face, OBJECT, OBJECT), BAD);
+    });
+    test("FULL;", x -> {
+      int two = x.declare(FACE, 2), one = x.declare(FACE, 1), six = x.rows(OBJECT, 5);
+      fill(x, two, MOST_TYPES - 1);
+      x.due("the last number is 149", x.of(one, OBJECT), 149);
+      x.due("no room", x.of(one, 149), FULL);
+      x.due("FULL ahead of DEEP", x.of(one, six), FULL);
+      x.due("there already", x.of(one, OBJECT), 149);
+      x.due("BAD is ahead", x.of(one, NULL), BAD);
+    });
+    test("DEEP.", x -> {
+      int one = x.declare(FACE, 1), two = x.declare(FACE, 2), t = x.wild(ANY, 0);
+      for (int deep = 2; deep <= 6; deep++) {
+        t = x.of(one, t);
+        x.due("so deep", x.told(t, 4), deep);
+      }
+      x.due("7 deep", x.of(one, t), DEEP);
+      x.due("7 deep by the first", x.of(two, t, OBJECT), DEEP);
+      x.due("7 deep by the second", x.of(two, OBJECT, t), DEEP);
+      int wide = x.of(two, t - 1, OBJECT);
+      x.due("6 deep by the first", x.told(wide, 4), 6);
+    });
   }
 
   private static void wild() {
-    promise = 8;
-    CaptureSubtypes x = new CaptureSubtypes();
-    int one = x.declare(FACE, 1);
-    due("kind -1", x.wild(-1, 0), BAD);
-    due("kind 3", x.wild(3, 0), BAD);
-    due("any", x.wild(ANY, 0), 3);
-    for (int far : FAR) {
-      due("any, whatever the type", x.wild(ANY, far), 3);
-      due("kind far off", x.wild(far, 0), BAD);
-      due("up to far off", x.wild(UP, far), BAD);
-      due("down to far off", x.wild(DOWN, far), BAD);
-    }
-    due("any, INT does not count", x.wild(ANY, INT), 3);
-    due("up to INT", x.wild(UP, INT), BAD);
-    due("up to NULL", x.wild(UP, NULL), BAD);
-    due("down to INT", x.wild(DOWN, INT), BAD);
-    due("down to NULL", x.wild(DOWN, NULL), BAD);
-    due("up to WILD", x.wild(UP, 3), BAD);
-    due("down to WILD", x.wild(DOWN, 3), BAD);
-    due("up to OBJECT is not any", x.wild(UP, 0), 4);
-    due("down to OBJECT", x.wild(DOWN, 0), 5);
-    due("up to as it is", x.wild(UP, 0), 4);
-    due("up to a row", x.wild(UP, x.row(INT)), 7);
-    due("any is 1 deep", x.told(3, 4), 1);
-    due("up to is 2 deep", x.told(4, 4), 2);
-    int t = x.of(one, 4, 0);
-    for (int deep = 4; deep <= 6; deep++) t = x.row(t);
-    due("6 deep", x.told(t, 4), 6);
-    due("DEEP up to", x.wild(UP, t), DEEP);
-    due("DEEP down to", x.wild(DOWN, t), DEEP);
-    fill(x);
-    due("FULL ahead of DEEP", x.wild(UP, t), FULL);
-    due("BAD ahead of FULL", x.wild(UP, INT), BAD);
-    due("there at 150", x.wild(DOWN, 0), 5);
+    in("Promise 8");
+    test("WILD: kind 0 any (the TYPE does not count),", x -> {
+      x.due("any", x.wild(ANY, 0), 3);
+      for (int t : new int[] {OBJECT, INT, NULL, 3, 4}) x.due("as it is", x.wild(ANY, t), 3);
+      for (int far : FAR) x.due("as it is", x.wild(ANY, far), 3);
+      x.due("its kind", x.told(3, 1), ANY);
+      x.due("no TYPE", x.told(3, 2), NONE);
+      x.due("1 deep", x.told(3, 4), 1);
+    });
+    test("1 up to, 2 down to a TYPE,", x -> {
+      int c = x.declare(CLASS, 0), a = x.plain(c), any = x.wild(ANY, 0), up = x.wild(UP, a);
+      int down = x.wild(DOWN, a);
+      x.due("up to OBJECT is not any", x.wild(UP, OBJECT), down + 1);
+      x.due("down to OBJECT", x.wild(DOWN, OBJECT), down + 2);
+      x.due("up", x.told(up, 1), UP);
+      x.due("to a TYPE", x.told(up, 2), a);
+      x.due("down", x.told(down, 1), DOWN);
+      x.due("to a TYPE", x.told(down, 2), a);
+      x.due("no second", x.told(down, 3), NONE);
+      x.due("any", x.told(any, 1), ANY);
+    });
+    test("that may be an ARGUMENT and is not WILD.", x -> {
+      int c = x.declare(CLASS, 1), bare = x.plain(c), v = x.variable(c, 0), ints = x.row(INT);
+      int any = x.wild(ANY, 0), of = x.of(c, any), next = x.count(1);
+      for (int kind = UP; kind <= DOWN; kind++) {
+        for (int t : new int[] {OBJECT, bare, v, ints, of}) x.due("may", x.wild(kind, t), next++);
+        for (int t : new int[] {INT, NULL, any, of + 1, next - 1}) {
+          x.due("may not", x.wild(kind, t), BAD);
+        }
+      }
+    });
+    test("BAD;", x -> {
+      for (int far : FAR) {
+        x.due("no kind", x.wild(far, OBJECT), BAD);
+        x.due("up to no TYPE", x.wild(UP, far), BAD);
+        x.due("down to no TYPE", x.wild(DOWN, far), BAD);
+      }
+      x.due("kind 3", x.wild(3, OBJECT), BAD);
+      x.due("kind -1", x.wild(-1, OBJECT), BAD);
+      x.due("the next TYPE", x.wild(UP, 3), BAD);
+    });
+    test("FULL;", x -> {
+      int two = x.declare(FACE, 2), six = x.rows(OBJECT, 5);
+      fill(x, two, MOST_TYPES - 1);
+      x.due("the last number is 149", x.wild(UP, OBJECT), 149);
+      x.due("no room for up to", x.wild(UP, 3), FULL);
+      x.due("no room for down to", x.wild(DOWN, OBJECT), FULL);
+      x.due("no room for any", x.wild(ANY, 0), FULL);
+      x.due("FULL ahead of DEEP", x.wild(UP, six), FULL);
+      x.due("there already", x.wild(UP, OBJECT), 149);
+      x.due("BAD is ahead", x.wild(UP, 149), BAD);
+    });
+    test("DEEP.", x -> {
+      int six = x.rows(OBJECT, 5), up = x.wild(UP, six - 1);
+      x.due("6 deep", x.told(up, 4), 6);
+      x.due("up to 6 deep", x.wild(UP, six), DEEP);
+      x.due("down to 6 deep", x.wild(DOWN, six), DEEP);
+      x.due("any is not deep", x.wild(ANY, six), up + 1);
+    });
   }
 
   private static void variable() {
-    promise = 9;
-    CaptureSubtypes x = new CaptureSubtypes();
-    int none = x.declare(CLASS, 0), one = x.declare(FACE, 1), two = x.declare(FACE, 2);
-    due("no parameters", x.variable(none, 0), BAD);
-    due("OBJECT", x.variable(0, 0), BAD);
-    due("parameter 1 of one", x.variable(one, 1), BAD);
-    due("parameter 2 of two", x.variable(two, 2), BAD);
-    due("parameter -1", x.variable(two, -1), BAD);
-    due("no class", x.variable(4, 0), BAD);
-    for (int far : FAR) {
-      due("class far off", x.variable(far, 0), BAD);
-      due("parameter far off", x.variable(two, far), BAD);
-    }
-    due("the first of one", x.variable(one, 0), 3);
-    due("the second of two", x.variable(two, 1), 4);
-    due("the first of two", x.variable(two, 0), 5);
-    due("as it is", x.variable(two, 1), 4);
-    x.declare(CLASS, 1);
-    fill(x);
-    due("FULL", x.variable(4, 0), FULL);
-    due("BAD ahead of FULL", x.variable(4, 1), BAD);
-    due("there at 150", x.variable(one, 0), 3);
+    in("Promise 9");
+    test("The VARIABLE of a PARAMETER.", x -> {
+      int one = x.declare(FACE, 1), two = x.declare(LAST, 2);
+      x.due("the second of two", x.variable(two, 1), 3);
+      x.due("the first of two", x.variable(two, 0), 4);
+      x.due("the one", x.variable(one, 0), 5);
+      x.due("its CLASS", x.told(3, 1), two);
+      x.due("its number", x.told(3, 2), 1);
+      x.due("the number of the first", x.told(4, 2), 0);
+      x.due("as it is", x.variable(two, 1), 3);
+    });
+    test("BAD;", x -> {
+      int none = x.declare(CLASS, 0), one = x.declare(FACE, 1), two = x.declare(LAST, 2);
+      for (int far : FAR) {
+        x.due("no CLASS", x.variable(far, 0), BAD);
+        x.due("no PARAMETER", x.variable(two, far), BAD);
+      }
+      x.due("the next CLASS", x.variable(two + 1, 0), BAD);
+      x.due("OBJECT has none", x.variable(0, 0), BAD);
+      x.due("a CLASS that has none", x.variable(none, 0), BAD);
+      x.due("a second of one", x.variable(one, 1), BAD);
+      x.due("a third of two", x.variable(two, 2), BAD);
+    });
+    test("FULL.", x -> {
+      int two = x.declare(FACE, 2);
+      fill(x, two, MOST_TYPES - 1);
+      x.due("the last number is 149", x.variable(two, 1), 149);
+      x.due("no room", x.variable(two, 0), FULL);
+      x.due("there already", x.variable(two, 1), 149);
+      x.due("BAD is ahead", x.variable(two, 2), BAD);
+    });
   }
 
   private static void row() {
-    promise = 10;
-    CaptureSubtypes x = new CaptureSubtypes();
-    int any = x.wild(ANY, 0);
-    due("NULL", x.row(NULL), BAD);
-    due("WILD", x.row(any), BAD);
-    due("none", x.row(4), BAD);
-    for (int far : FAR) due("far off", x.row(far), BAD);
-    due("of INT", x.row(INT), 4);
-    due("of OBJECT", x.row(OBJECT), 5);
-    due("as it is", x.row(INT), 4);
-    int t = 5;
-    for (int deep = 3; deep <= 6; deep++) t = x.row(t);
-    due("6 deep", x.told(t, 4), 6);
-    due("DEEP", x.row(t), DEEP);
-    fill(x);
-    due("FULL ahead of DEEP", x.row(t), FULL);
-    due("BAD ahead of FULL", x.row(NULL), BAD);
-    due("there at 150", x.row(OBJECT), 5);
+    in("Promise 10");
+    test("The ROW of a TYPE.", x -> {
+      int c = x.declare(CLASS, 1), bare = x.plain(c), v = x.variable(c, 0);
+      int of = x.of(c, x.wild(ANY, 0)), next = x.count(1);
+      for (int t : new int[] {OBJECT, INT, bare, v, of, next}) {
+        x.due("its ROW", x.row(t), next);
+        x.due("of it", x.told(next, 2), t);
+        next++;
+      }
+      x.due("as it is", x.row(INT), next - 5);
+    });
+    test("BAD:", x -> {
+      for (int far : FAR) x.due("no TYPE", x.row(far), BAD);
+      x.due("the next TYPE", x.row(3), BAD);
+    });
+    test("also NULL, WILD;", x -> {
+      int any = x.wild(ANY, 0), up = x.wild(UP, OBJECT), down = x.wild(DOWN, OBJECT);
+      for (int t : new int[] {NULL, any, up, down}) x.due("none of these", x.row(t), BAD);
+    });
+    test("FULL;", x -> {
+      int two = x.declare(FACE, 2), six = x.rows(OBJECT, 5);
+      fill(x, two, MOST_TYPES - 1);
+      x.due("the last number is 149", x.row(INT), 149);
+      x.due("no room", x.row(149), FULL);
+      x.due("FULL ahead of DEEP", x.row(six), FULL);
+      x.due("there already", x.row(OBJECT), six - 4);
+      x.due("BAD is ahead", x.row(NULL), BAD);
+    });
+    test("DEEP.", x -> {
+      int t = INT;
+      for (int deep = 2; deep <= 6; deep++) {
+        t = x.row(t);
+        x.due("so deep", x.told(t, 4), deep);
+      }
+      x.due("7 deep", x.row(t), DEEP);
+    });
   }
 
+  // ---------------------------------------------------------------- promises 11 to 15
+
   private static void count() {
-    promise = 11;
-    CaptureSubtypes x = new CaptureSubtypes();
-    x.declare(FACE, 1);
-    x.declare(FACE, 1);
-    x.wild(ANY, 0);
-    x.plain(1);
-    x.plain(1);
-    due("classes", x.count(0), 3);
-    due("types, WILD ones too", x.count(1), 5);
-    due("-1", x.count(-1), BAD);
-    due("2", x.count(2), BAD);
-    for (int far : FAR) due("far off", x.count(far), BAD);
+    in("Promise 11");
+    test("What = 0 CLASSES, 1 TYPES.", x -> {
+      x.due("CLASSES at first", x.count(0), 1);
+      x.due("TYPES at first", x.count(1), 3);
+      int c = x.declare(FACE, 2);
+      x.due("a CLASS more", x.count(0), 2);
+      x.due("no TYPE more", x.count(1), 3);
+      x.plain(c);
+      x.plain(c);
+      x.due("a TYPE more, once", x.count(1), 4);
+      x.wild(ANY, 0);
+      x.due("a WILD one more", x.count(1), 5);
+      while (x.count(0) < MOST_CLASSES) x.declare(CLASS, 0);
+      fill(x, c, MOST_TYPES);
+      x.due("all CLASSES", x.count(0), 12);
+      x.due("all TYPES", x.count(1), 150);
+    });
+    test("BAD.", x -> {
+      for (int far : FAR) x.due("far off", x.count(far), BAD);
+      x.due("2", x.count(2), BAD);
+    });
   }
 
   private static void told() {
-    promise = 12;
-    CaptureSubtypes x = new CaptureSubtypes();
-    int one = x.declare(FACE, 1), two = x.declare(CLASS, 2), none = x.declare(LAST, 0);
-    int plain = x.plain(none), bare = x.plain(two), v = x.variable(two, 1);
-    int any = x.wild(ANY, 7), up = x.wild(UP, plain), down = x.wild(DOWN, v);
-    int ofOne = x.of(one, up, 0), ofTwo = x.of(two, down, ofOne), row = x.row(ofTwo);
-    toldAll(x, "OBJECT", OBJECT, 0, 0, NONE, NONE, 1);
-    toldAll(x, "INT", INT, 6, NONE, NONE, NONE, 1);
-    toldAll(x, "NULL", NULL, 7, NONE, NONE, NONE, 1);
-    toldAll(x, "PLAIN", plain, 0, none, NONE, NONE, 1);
-    toldAll(x, "BARE", bare, 1, two, NONE, NONE, 1);
-    toldAll(x, "VARIABLE", v, 3, two, 1, NONE, 1);
-    toldAll(x, "any", any, 5, ANY, NONE, NONE, 1);
-    toldAll(x, "up to", up, 5, UP, plain, NONE, 2);
-    toldAll(x, "down to", down, 5, DOWN, v, NONE, 2);
-    toldAll(x, "of one", ofOne, 2, one, up, NONE, 3);
-    toldAll(x, "of two", ofTwo, 2, two, down, ofOne, 4);
-    toldAll(x, "ROW", row, 4, NONE, ofTwo, NONE, 5);
-    due("what -1", x.told(row, -1), BAD);
-    due("what 5", x.told(row, 5), BAD);
-    due("no type", x.told(row + 1, 0), BAD);
-    for (int far : FAR) {
-      due("type far off", x.told(far, 0), BAD);
-      due("what far off", x.told(OBJECT, far), BAD);
-    }
+    in("Promise 12");
+    test("Of a TYPE: what = 0 its sort (0 PLAIN, 1 BARE, 2 of ARGUMENTS, 3 VARIABLE, 4 ROW, 5 WILD,"
+        + " 6 INT, 7 NULL),", x -> toldAll(x, 0, 0, 6, 7, 0, 1, 3, 5, 5, 5, 2, 2, 4));
+    test("1 its CLASS (of a VARIABLE the PARAMETER'S; of WILD its kind; NONE),",
+        x -> toldAll(x, 1, 0, NONE, NONE, 1, 3, 3, ANY, UP, DOWN, 2, 3, NONE));
+    test("2, 3 its ARGUMENTS (of a VARIABLE 2: its number; of ROWS, WILD 2: the TYPE; NONE),",
+        x -> {
+      toldAll(x, 2, NONE, NONE, NONE, NONE, NONE, 1, NONE, 3, 5, 7, 8, 10);
+      toldAll(new Run(), 3, NONE, NONE, NONE, NONE, NONE, NONE, NONE, NONE, NONE, NONE, 9, NONE);
+    });
+    test("4 how deep it is.", x -> toldAll(x, 4, 1, 1, 1, 1, 1, 1, 1, 2, 2, 3, 4, 5));
+    test("BAD.", x -> {
+      int any = x.wild(ANY, 0);
+      for (int far : FAR) {
+        x.due("no TYPE", x.told(far, 0), BAD);
+        x.due("no what", x.told(OBJECT, far), BAD);
+      }
+      x.due("the next TYPE", x.told(any + 1, 0), BAD);
+      x.due("what 5", x.told(any, 5), BAD);
+    });
   }
 
-  private static void toldAll(CaptureSubtypes x, String name, int t, int sort, int cls, int first,
-      int second, int deep) {
-    due(name + "'s sort", x.told(t, 0), sort);
-    due(name + "'s class", x.told(t, 1), cls);
-    due(name + "'s first", x.told(t, 2), first);
-    due(name + "'s second", x.told(t, 3), second);
-    due(name + "'s depth", x.told(t, 4), deep);
+  /** Of a TYPE of each sort one thing that is told. */
+  private static void toldAll(Run x, int what, int... wants) {
+    int none = x.declare(LAST, 0), one = x.declare(FACE, 1), two = x.declare(CLASS, 2);
+    int plain = x.plain(none), bare = x.plain(two), v = x.variable(two, 1), any = x.wild(ANY, 7);
+    int up = x.wild(UP, plain), down = x.wild(DOWN, v), ofOne = x.of(one, up);
+    int ofTwo = x.of(two, down, ofOne), row = x.row(ofTwo);
+    String[] names = {
+      "OBJECT", "INT", "NULL", "PLAIN", "BARE", "VARIABLE", "any", "up to", "down to", "of one",
+      "of two", "ROW"
+    };
+    int[] all = {OBJECT, INT, NULL, plain, bare, v, any, up, down, ofOne, ofTwo, row};
+    for (int k = 0; k < all.length; k++) x.due(names[k], x.told(all[k], what), wants[k]);
   }
 
   private static void known() {
-    promise = 13;
-    CaptureSubtypes x = new CaptureSubtypes();
-    int face = x.declare(FACE, 1), base = x.declare(SEALED, 2), c = x.declare(CLASS, 0);
-    int d = x.declare(LAST, 0);
-    due("heirs of OBJECT: the classes, not the interface", x.known(0, 2), 3);
-    due("below OBJECT: all", x.known(0, 3), 5);
-    x.inherit(base, x.plain(face));
-    x.inherit(c, x.plain(base));
-    x.inherit(d, x.plain(c));
-    x.inherit(d, x.plain(face));
-    x.inherit(d, x.plain(face));
-    due("kind", x.known(base, 0), SEALED);
-    due("parameters", x.known(base, 1), 2);
-    due("heirs of OBJECT", x.known(0, 2), 1);
-    due("heirs of the face: each once", x.known(face, 2), 2);
-    due("below the face", x.known(face, 3), 4);
-    due("heirs of base", x.known(base, 2), 1);
-    due("below base", x.known(base, 3), 3);
-    due("heirs of the last", x.known(d, 2), 0);
-    due("below the last: itself", x.known(d, 3), 1);
-    due("what -1", x.known(0, -1), BAD);
-    due("what 4", x.known(0, 4), BAD);
-    due("no class", x.known(5, 0), BAD);
-    for (int far : FAR) {
-      due("class far off", x.known(far, 0), BAD);
-      due("what far off", x.known(0, far), BAD);
-    }
+    in("Promise 13");
+    test("Of a CLASS: what = 0 KIND,", x -> {
+      for (int kind = 0; kind <= 4; kind++) {
+        x.due("its KIND", x.known(x.declare(kind, kind % 3), 0), kind);
+      }
+      x.due("OBJECT'S", x.known(0, 0), 0);
+    });
+    test("1 PARAMETERS,", x -> {
+      for (int many = 0; many <= 2; many++) {
+        x.due("so many", x.known(x.declare(many, many), 1), many);
+      }
+      x.due("OBJECT'S", x.known(0, 1), 0);
+    });
+    test("2 how many HEIRS,", x -> {
+      int face = x.declare(FACE, 0), base = x.declare(CLASS, 0), c = x.declare(CLASS, 0);
+      int f = x.plain(face), b = x.plain(base), a = x.plain(c), d = x.declare(LAST, 0);
+      x.due("OBJECT'S: the classes, not the interface", x.known(0, 2), 3);
+      x.inherit(c, b);
+      x.inherit(d, a);
+      x.inherit(d, f);
+      x.inherit(d, f);
+      x.due("one, though it is a SUPER twice", x.known(face, 2), 1);
+      x.due("not the HEIR'S HEIR", x.known(base, 2), 1);
+      x.due("none", x.known(d, 2), 0);
+      x.due("OBJECT'S then", x.known(0, 2), 1);
+    });
+    test("3 how many CLASSES are BELOW it (itself, too).", x -> {
+      int face = x.declare(FACE, 0), base = x.declare(CLASS, 0), c = x.declare(CLASS, 0);
+      int f = x.plain(face), b = x.plain(base), d = x.declare(LAST, 0);
+      x.due("itself alone", x.known(face, 3), 1);
+      x.inherit(base, f);
+      x.inherit(c, b);
+      x.inherit(d, x.plain(c));
+      x.inherit(d, f);
+      x.due("HEIRS and theirs, each once", x.known(face, 3), 4);
+      x.due("HEIRS and theirs", x.known(base, 3), 3);
+      x.due("one HEIR", x.known(c, 3), 2);
+      x.due("none", x.known(d, 3), 1);
+      x.due("OBJECT'S: all", x.known(0, 3), 5);
+    });
+    test("BAD.", x -> {
+      int c = x.declare(CLASS, 0);
+      for (int far : FAR) {
+        x.due("no CLASS", x.known(far, 0), BAD);
+        x.due("no what", x.known(c, far), BAD);
+      }
+      x.due("the next CLASS", x.known(c + 1, 0), BAD);
+      x.due("what 4", x.known(c, 4), BAD);
+    });
   }
 
   private static void below() {
-    promise = 14;
-    CaptureSubtypes x = new CaptureSubtypes();
-    int face = x.declare(FACE, 0), sub = x.declare(FACE, 0), c = x.declare(CLASS, 0);
-    int alone = x.declare(SEALED_FACE, 0);
-    x.inherit(sub, x.plain(face));
-    x.inherit(c, x.plain(sub));
-    due("itself", x.below(c, c), 1);
-    due("its super", x.below(c, sub), 1);
-    due("its super's super", x.below(c, face), 1);
-    due("not the other way", x.below(face, c), 0);
-    due("an interface below OBJECT", x.below(alone, 0), 1);
-    due("OBJECT below OBJECT", x.below(0, 0), 1);
-    due("OBJECT below none else", x.below(0, alone), 0);
-    due("a stranger", x.below(c, alone), 0);
-    for (int far : FAR) {
-      due("first far off", x.below(far, 0), BAD);
-      due("second far off", x.below(0, far), BAD);
-    }
-    due("no class", x.below(5, 0), BAD);
+    in("Promise 14");
+    test("Whether a CLASS is BELOW another one (1 or 0).", x -> {
+      int face = x.declare(FACE, 1), sub = x.declare(FACE, 0), c = x.declare(LAST, 0);
+      int ofObject = x.of(face, OBJECT), s = x.plain(sub);
+      x.due("before", x.below(c, face), 0);
+      x.inherit(c, s);
+      x.due("a SUPER", x.below(c, sub), 1);
+      x.inherit(sub, ofObject);
+      x.due("a SUPER'S SUPER, put in later", x.below(c, face), 1);
+      x.due("not the other way", x.below(face, c), 0);
+      x.due("itself", x.below(c, c), 1);
+      x.due("OBJECT", x.below(face, 0), 1);
+      x.due("OBJECT is not", x.below(0, face), 0);
+    });
+    test("BAD.", x -> {
+      int c = x.declare(CLASS, 0);
+      for (int far : FAR) {
+        x.due("the first", x.below(far, c), BAD);
+        x.due("the second", x.below(c, far), BAD);
+      }
+      x.due("the next CLASS", x.below(c + 1, 0), BAD);
+      x.due("the next CLASS", x.below(0, c + 1), BAD);
+    });
   }
 
   private static void apart() {
-    promise = 15;
-    CaptureSubtypes x = new CaptureSubtypes();
-    int face = x.declare(FACE, 0), other = x.declare(FACE, 0), a = x.declare(CLASS, 0);
-    int family = x.declare(SEALED_FACE, 0), b = x.declare(CLASS, 0), last = x.declare(LAST, 0);
-    int top = x.declare(SEALED, 0), child = x.declare(SEALED, 0), leaf = x.declare(CLASS, 0);
-    due("itself", x.apart(a, a), 0);
-    due("OBJECT", x.apart(0, face), 0);
-    due("two classes", x.apart(a, b), 1);
-    due("two interfaces", x.apart(face, other), 0);
-    due("class and interface", x.apart(a, face), 0);
-    due("interface and class", x.apart(face, a), 0);
-    due("last class and interface", x.apart(last, face), 1);
-    due("interface and last class", x.apart(face, last), 1);
-    due("sealed without heirs: all of none", x.apart(family, face), 1);
-    due("the other way", x.apart(face, family), 1);
-    x.inherit(last, x.plain(family));
-    due("the heir is apart, so is the family", x.apart(family, face), 1);
-    due("the heir itself is below", x.apart(last, family), 0);
-    x.inherit(b, x.plain(family));
-    due("an open heir", x.apart(family, face), 0);
-    due("the other way", x.apart(face, family), 0);
-    due("a class that is no heir", x.apart(family, a), 1);
-    x.inherit(child, x.plain(top));
-    due("sealed over sealed over none", x.apart(top, face), 1);
-    x.inherit(leaf, x.plain(child));
-    due("sealed over sealed over an open one", x.apart(top, face), 0);
-    due("two families with no heir in both", x.apart(top, family), 1);
-    x.inherit(leaf, x.plain(family));
-    due("a heir in both", x.apart(top, family), 0);
-    due("a heir in both, the other way", x.apart(family, top), 0);
-    int newest = x.declare(CLASS, 0);
-    due("the class declared last", x.apart(newest, a), 1);
-    due("the class declared last, the other way", x.apart(a, newest), 1);
-    due("itself", x.apart(newest, newest), 0);
-    for (int far : FAR) {
-      due("first far off", x.apart(far, 0), BAD);
-      due("second far off", x.apart(0, far), BAD);
-    }
-    due("no class", x.apart(x.count(0), 0), BAD);
+    in("Promise 15");
+    test("Whether CLASSES are APART (1 or 0).", x -> {
+      x.due("OBJECT and itself", x.apart(0, 0), 0);
+      int face = x.declare(FACE, 0), a = x.declare(CLASS, 0), b = x.declare(CLASS, 0);
+      int family = x.declare(SEALED_FACE, 0), last = x.declare(LAST, 0);
+      x.due("two classes", x.apart(a, b), 1);
+      x.due("a class and an interface", x.apart(a, face), 0);
+      x.due("a last class and an interface", x.apart(last, face), 1);
+      x.due("a sealed family", x.apart(face, family), 1);
+      x.inherit(last, x.plain(face));
+      x.due("BELOW", x.apart(last, face), 0);
+      x.inherit(last, x.plain(family));
+      x.due("a family with a HEIR that is not", x.apart(face, family), 0);
+      x.inherit(b, x.plain(a));
+      x.due("a class and its SUPER", x.apart(a, b), 0);
+      x.due("itself", x.apart(last, last), 0);
+      int newest = x.declare(CLASS, 0);
+      x.due("one that is new", x.apart(newest, a), 1);
+    });
+    test("BAD.", x -> {
+      int c = x.declare(CLASS, 0);
+      for (int far : FAR) {
+        x.due("the first", x.apart(far, c), BAD);
+        x.due("the second", x.apart(c, far), BAD);
+      }
+      x.due("the next CLASS", x.apart(c + 1, 0), BAD);
+      x.due("the next CLASS", x.apart(0, c + 1), BAD);
+    });
   }
 
-  private static void isOfSimpleTypes() {
-    promise = 16;
-    CaptureSubtypes x = new CaptureSubtypes();
-    int face = x.declare(FACE, 0), c = x.declare(CLASS, 2), d = x.declare(CLASS, 0);
-    int faceType = x.plain(face), bare = x.plain(c), dType = x.plain(d);
-    int v0 = x.variable(c, 0), v1 = x.variable(c, 1), any = x.wild(ANY, 0);
-    x.inherit(d, faceType);
-    x.bind(c, 0, dType);
-    x.bind(c, 1, v0);
-    int ints = x.row(INT), objects = x.row(OBJECT), faces = x.row(faceType), ds = x.row(dType);
-    int vs = x.row(v1), grid = x.row(ints);
-    due("below", x.is(dType, faceType), 1);
-    due("not above", x.is(faceType, dType), 0);
-    due("OBJECT is OBJECT", x.is(OBJECT, OBJECT), 1);
-    due("OBJECT is none else", x.is(OBJECT, faceType), 0);
-    due("NULL is a class", x.is(NULL, dType), 1);
-    due("NULL is a VARIABLE", x.is(NULL, v0), 1);
-    due("NULL is a row", x.is(NULL, ints), 1);
-    due("NULL is NULL", x.is(NULL, NULL), 1);
-    due("NULL is not INT", x.is(NULL, INT), 0);
-    due("none else is NULL", x.is(OBJECT, NULL), 0);
-    due("INT is INT", x.is(INT, INT), 1);
-    due("INT is not OBJECT", x.is(INT, OBJECT), 0);
-    due("a row is OBJECT", x.is(ints, OBJECT), 1);
-    due("an interface is OBJECT", x.is(faceType, OBJECT), 1);
-    due("a VARIABLE is its bound's", x.is(v0, faceType), 1);
-    due("a VARIABLE by a VARIABLE", x.is(v1, faceType), 1);
-    due("a VARIABLE is a VARIABLE", x.is(v1, v0), 1);
-    due("nothing is a VARIABLE without low", x.is(dType, v0), 0);
-    due("rows as what they are of", x.is(ds, faces), 1);
-    due("rows not the other way", x.is(faces, ds), 0);
-    due("rows of VARIABLES", x.is(vs, ds), 1);
-    due("a row of INT is no row of OBJECT", x.is(ints, objects), 0);
-    due("a row of OBJECT is no row of INT", x.is(objects, ints), 0);
-    due("a row of rows is a row of OBJECT", x.is(grid, objects), 1);
-    due("a row is of no class", x.is(ds, dType), 0);
-    due("a class is no row", x.is(dType, ds), 0);
-    due("bare", x.is(bare, bare), 1);
-    due("WILD first", x.is(any, OBJECT), BAD);
-    due("WILD second", x.is(OBJECT, any), BAD);
-    due("no type", x.is(x.count(1), 0), BAD);
-    for (int far : FAR) {
-      due("first far off", x.is(far, 0), BAD);
-      due("second far off", x.is(0, far), BAD);
-    }
-  }
+  // ---------------------------------------------------------------- promises 16 to 20
 
-  private static void isWithWilds() {
-    promise = 16;
-    CaptureSubtypes x = new CaptureSubtypes();
-    int list = x.declare(FACE, 1), sub = x.declare(FACE, 1), a = x.declare(CLASS, 0);
-    int b = x.declare(CLASS, 0), cmp = x.declare(FACE, 1), own = x.declare(CLASS, 1);
-    int aType = x.plain(a), bType = x.plain(b);
-    x.inherit(b, aType);
-    x.inherit(sub, x.of(list, x.variable(sub, 0), 0));
-    x.inherit(own, x.of(cmp, x.of(own, x.variable(own, 0), 0), 0));
-    int any = x.wild(ANY, 0), upA = x.wild(UP, aType), upB = x.wild(UP, bType);
-    int downA = x.wild(DOWN, aType), downB = x.wild(DOWN, bType);
-    int listA = x.of(list, aType, 0), listB = x.of(list, bType, 0), listAny = x.of(list, any, 0);
-    int listUpA = x.of(list, upA, 0), listDownA = x.of(list, downA, 0);
-    int listDownB = x.of(list, downB, 0), subUpB = x.of(sub, upB, 0), subB = x.of(sub, bType, 0);
-    int subDownA = x.of(sub, downA, 0), subAny = x.of(sub, any, 0);
-    due("the same argument", x.is(subB, listB), 1);
-    due("another argument", x.is(listB, listA), 0);
-    due("any", x.is(subB, listAny), 1);
-    due("up to", x.is(subB, listUpA), 1);
-    due("down to", x.is(listA, listDownB), 1);
-    due("not down to", x.is(listB, listDownA), 0);
-    due("up to what is up to less", x.is(subUpB, listUpA), 1);
-    due("not the other way", x.is(x.of(sub, upA, 0), x.of(list, upB, 0)), 0);
-    due("a caught one is not the argument", x.is(subUpB, listB), 0);
-    due("down to what is down to more", x.is(subDownA, listDownB), 1);
-    due("not down to less", x.is(x.of(sub, downB, 0), listDownA), 0);
-    due("any is up to OBJECT", x.is(subAny, x.of(list, x.wild(UP, OBJECT), 0)), 1);
-    due("any is not down to", x.is(subAny, listDownA), 0);
-    due("any is any", x.is(subAny, listAny), 1);
-    int deep = x.of(list, x.wild(UP, listUpA), 0);
-    due("nested wilds", x.is(x.of(sub, x.of(list, upB, 0), 0), deep), 1);
-    due("nested, caught", x.is(x.of(sub, x.wild(UP, x.of(sub, upB, 0)), 0), deep), 1);
-    due("nested without the outer wild", x.is(x.of(list, listB, 0), x.of(list, listUpA, 0)), 0);
-    due("the same, with wilds", x.is(listUpA, listUpA), 1);
-    int ownAny = x.of(own, any, 0);
-    due("each catch is new", x.is(ownAny, x.of(cmp, x.wild(DOWN, ownAny), 0)), 0);
-    due("up to the wild one", x.is(ownAny, x.of(cmp, x.wild(UP, ownAny), 0)), 1);
-    int ownA = x.of(own, aType, 0);
-    due("down to itself", x.is(ownA, x.of(cmp, x.wild(DOWN, ownA), 0)), 1);
-    due("a row of such", x.is(x.row(subUpB), x.row(listUpA)), 1);
-    due("a row is not of its argument", x.is(x.row(aType), listA), 0);
-    due("nor the other way", x.is(listA, x.row(aType)), 0);
-    int listDownObject = x.of(list, x.wild(DOWN, OBJECT), 0);
-    due("down to OBJECT", x.is(x.of(list, OBJECT, 0), listDownObject), 1);
-    due("down to OBJECT, caught", x.is(x.of(sub, x.wild(DOWN, OBJECT), 0), listDownObject), 1);
-  }
-
-  private static void isWithCaughtBounds() {
-    promise = 16;
-    CaptureSubtypes x = new CaptureSubtypes();
-    int list = x.declare(FACE, 1), a = x.declare(FACE, 0), b = x.declare(FACE, 0);
-    int pair = x.declare(CLASS, 2), self = x.declare(CLASS, 1), two = x.declare(FACE, 1);
-    int aType = x.plain(a), bType = x.plain(b);
-    int v0 = x.variable(pair, 0), v1 = x.variable(pair, 1), s = x.variable(self, 0);
-    x.bind(pair, 0, aType);
-    x.bind(pair, 1, x.of(list, v0, 0));
-    x.bind(self, 0, x.of(self, s, 0));
-    x.bind(two, 0, aType);
-    x.bind(two, 0, bType);
-    x.inherit(pair, x.of(list, v1, 0));
-    x.inherit(two, x.of(list, x.variable(two, 0), 0));
-    int any = x.wild(ANY, 0), upA = x.wild(UP, aType), upB = x.wild(UP, bType);
-    int listUpA = x.of(list, upA, 0), listUpB = x.of(list, upB, 0);
-    due("any has the parameter's first bound", x.is(x.of(two, any, 0), listUpA), 1);
-    due("and its second", x.is(x.of(two, any, 0), listUpB), 1);
-    due("up to comes with the bounds", x.is(x.of(two, upB, 0), listUpA), 1);
-    int strange = x.of(two, x.wild(UP, x.of(list, any, 0)), 0);
-    due("up to comes ahead of the first bound", x.is(strange, listUpA), 1);
-    due("and of the second", x.is(strange, listUpB), 1);
-    due("and is one of them", x.is(strange, x.of(list, x.wild(UP, x.of(list, any, 0)), 0)), 1);
-    due("OBJECT beside a caught one", x.is(x.of(pair, OBJECT, any), x.of(list, any, 0)), 1);
-    due("a caught one beside OBJECT",
-        x.is(x.of(pair, any, OBJECT), x.of(list, OBJECT, 0)), 1);
-    int both = x.of(pair, any, any), listListUpA = x.of(list, x.wild(UP, listUpA), 0);
-    due("bounds with the caught one put in", x.is(both, listListUpA), 1);
-    due("bounds with an argument put in",
-        x.is(x.of(pair, bType, any), x.of(list, x.wild(UP, x.of(list, bType, 0)), 0)), 1);
-    due("not another one",
-        x.is(x.of(pair, bType, any), x.of(list, x.wild(UP, x.of(list, aType, 0)), 0)), 0);
-    int selfAny = x.of(self, any, 0);
-    due("a bound of itself", x.is(selfAny, x.of(self, x.wild(UP, selfAny), 0)), 1);
-    due("twice", x.is(selfAny, x.of(self, x.wild(UP, x.of(self, x.wild(UP, selfAny), 0)), 0)), 1);
-    due("the VARIABLE itself", x.is(s, selfAny), 1);
-  }
-
-  private static void isUnchecked() {
-    promise = 16;
-    CaptureSubtypes x = new CaptureSubtypes();
-    int list = x.declare(FACE, 1), sub = x.declare(FACE, 1), rawHeir = x.declare(CLASS, 1);
-    int a = x.declare(CLASS, 0), v = x.declare(CLASS, 2);
-    int aType = x.plain(a), any = x.wild(ANY, 0);
-    x.inherit(sub, x.of(list, x.variable(sub, 0), 0));
-    x.inherit(rawHeir, x.plain(list));
-    int bare = x.plain(list), bareSub = x.plain(sub), listA = x.of(list, aType, 0);
-    x.bind(v, 0, bareSub);
-    x.bind(v, 1, x.variable(v, 0));
-    due("bare to arguments", x.is(bare, listA), 2);
-    due("bare below", x.is(bareSub, listA), 2);
-    due("bare to any", x.is(bareSub, x.of(list, any, 0)), 2);
-    due("arguments over a bare super", x.is(x.of(rawHeir, aType, 0), listA), 2);
-    due("wild over a bare super", x.is(x.of(rawHeir, any, 0), listA), 2);
-    due("a VARIABLE'S bound", x.is(x.variable(v, 0), listA), 2);
-    due("a VARIABLE'S VARIABLE'S bound", x.is(x.variable(v, 1), listA), 2);
-    due("bare to bare IS", x.is(bareSub, bare), 1);
-    due("arguments to bare IS", x.is(listA, bare), 1);
-    due("bare to a lower class", x.is(bare, x.of(sub, aType, 0)), 0);
-    due("rows are not unchecked", x.is(x.row(bare), x.row(listA)), 0);
-    due("arguments that are not the same", x.is(x.of(sub, 0, 0), listA), 0);
-    due("NULL IS", x.is(NULL, listA), 1);
-    due("a VARIABLE without bounds", x.is(x.variable(list, 0), listA), 0);
+  private static void is() {
+    in("Promise 16");
+    test("Whether S IS a T: 1;", x -> {
+      int list = x.declare(FACE, 1), sub = x.declare(CLASS, 1), a = x.plain(x.declare(LAST, 0));
+      x.inherit(sub, x.of(list, x.variable(sub, 0)));
+      int subA = x.of(sub, a), listA = x.of(list, a), some = x.of(list, x.wild(UP, a));
+      x.due("the same ARGUMENT", x.is(subA, listA), 1);
+      x.due("a WILD ARGUMENT", x.is(subA, some), 1);
+      x.due("NULL", x.is(NULL, some), 1);
+      x.due("OBJECT", x.is(some, OBJECT), 1);
+    });
+    test("2: UNCHECKED;", x -> {
+      int list = x.declare(FACE, 1), sub = x.declare(CLASS, 1), bare = x.plain(sub);
+      x.inherit(sub, x.of(list, x.variable(sub, 0)));
+      int some = x.of(list, x.wild(ANY, 0)), ofObject = x.of(sub, OBJECT);
+      x.due("BARE below", x.is(bare, some), 2);
+      x.due("BARE of the same CLASS", x.is(bare, ofObject), 2);
+    });
+    test("0.", x -> {
+      int list = x.declare(FACE, 1), a = x.plain(x.declare(LAST, 0)), bare = x.plain(list);
+      int ofA = x.of(list, a), ofObject = x.of(list, OBJECT), rowA = x.row(a);
+      x.due("another ARGUMENT", x.is(ofA, ofObject), 0);
+      x.due("another CLASS", x.is(a, bare), 0);
+      x.due("INT", x.is(INT, OBJECT), 0);
+      x.due("a ROW", x.is(rowA, a), 0);
+      x.due("none IS NULL", x.is(a, NULL), 0);
+    });
+    test("BAD:", x -> {
+      for (int far : FAR) {
+        x.due("the first", x.is(far, OBJECT), BAD);
+        x.due("the second", x.is(OBJECT, far), BAD);
+      }
+      x.due("the next TYPE", x.is(3, OBJECT), BAD);
+      x.due("the next TYPE", x.is(OBJECT, 3), BAD);
+    });
+    test("also WILD.", x -> {
+      int any = x.wild(ANY, 0), up = x.wild(UP, OBJECT), down = x.wild(DOWN, OBJECT);
+      for (int w : new int[] {any, up, down}) {
+        x.due("the first", x.is(w, OBJECT), BAD);
+        x.due("the second", x.is(NULL, w), BAD);
+        x.due("both", x.is(w, w), BAD);
+      }
+    });
   }
 
   private static void may() {
-    promise = 17;
-    CaptureSubtypes x = new CaptureSubtypes();
-    int face = x.declare(FACE, 0), other = x.declare(FACE, 0), a = x.declare(CLASS, 0);
-    int b = x.declare(CLASS, 0), last = x.declare(LAST, 0), c = x.declare(CLASS, 2);
-    int faceType = x.plain(face), otherType = x.plain(other), aType = x.plain(a);
-    int bType = x.plain(b), lastType = x.plain(last), any = x.wild(ANY, 0);
-    x.inherit(b, aType);
-    x.bind(c, 0, aType);
-    x.bind(c, 0, faceType);
-    int v0 = x.variable(c, 0), v1 = x.variable(c, 1);
-    due("up", x.may(bType, aType), 1);
-    due("down", x.may(aType, bType), 1);
-    due("two interfaces", x.may(faceType, otherType), 1);
-    due("class and interface", x.may(aType, faceType), 1);
-    due("last class and interface", x.may(lastType, faceType), 0);
-    due("two classes", x.may(aType, lastType), 0);
-    due("NULL", x.may(NULL, aType), 1);
-    due("NULL to INT", x.may(NULL, INT), 0);
-    due("INT to INT", x.may(INT, INT), 1);
-    due("INT to OBJECT", x.may(INT, OBJECT), 0);
-    due("OBJECT to INT", x.may(OBJECT, INT), 0);
-    due("a VARIABLE to INT", x.may(v1, INT), 0);
-    due("OBJECT to all", x.may(OBJECT, lastType), 1);
-    due("a VARIABLE: its bounds may", x.may(v0, otherType), 1);
-    due("a VARIABLE: a class bound may not", x.may(v0, lastType), 0);
-    due("into a VARIABLE", x.may(otherType, v0), 1);
-    due("into a VARIABLE: a bound that may not", x.may(lastType, v0), 0);
-    due("a VARIABLE without bounds", x.may(v1, lastType), 1);
-    due("into one without bounds", x.may(lastType, v1), 1);
-    due("VARIABLES", x.may(v1, v0), 1);
-    due("WILD first", x.may(any, aType), BAD);
-    due("WILD second", x.may(aType, any), BAD);
-    due("to NULL", x.may(aType, NULL), BAD);
-    due("NULL to NULL", x.may(NULL, NULL), BAD);
-    due("no type", x.may(0, x.count(1)), BAD);
-    for (int far : FAR) {
-      due("first far off", x.may(far, 0), BAD);
-      due("second far off", x.may(0, far), BAD);
-    }
-  }
-
-  private static void mayWithArguments() {
-    promise = 17;
-    CaptureSubtypes x = new CaptureSubtypes();
-    int list = x.declare(FACE, 1), sub = x.declare(FACE, 1), a = x.declare(CLASS, 0);
-    int b = x.declare(CLASS, 0), d = x.declare(CLASS, 0), face = x.declare(FACE, 0);
-    int left = x.declare(FACE, 0), right = x.declare(CLASS, 1), bound = x.declare(FACE, 1);
-    int aType = x.plain(a), bType = x.plain(b), dType = x.plain(d), faceType = x.plain(face);
-    x.inherit(b, aType);
-    x.inherit(sub, x.of(list, x.variable(sub, 0), 0));
-    int listA = x.of(list, aType, 0), listB = x.of(list, bType, 0), subB = x.of(sub, bType, 0);
-    int any = x.wild(ANY, 0), upA = x.wild(UP, aType), upB = x.wild(UP, bType);
-    int upD = x.wild(UP, dType);
-    x.inherit(left, listA);
-    x.inherit(right, x.of(list, x.variable(right, 0), 0));
-    x.bind(bound, 0, faceType);
-    x.bind(right, 0, aType);
-    int v = x.variable(right, 0), w = x.variable(bound, 0), free = x.variable(sub, 0);
-    due("other arguments", x.may(listA, listB), 0);
-    due("other arguments below", x.may(subB, listA), 0);
-    due("down with the same argument", x.may(listB, subB), 1);
-    due("to any", x.may(listA, x.of(sub, any, 0)), 1);
-    due("up to it", x.may(listA, x.of(sub, upA, 0)), 1);
-    due("up to less: neither shows that they differ", x.may(listA, x.of(sub, upB, 0)), 1);
-    due("up to a stranger", x.may(listA, x.of(sub, upD, 0)), 0);
-    due("two wilds", x.may(x.of(list, upA, 0), x.of(sub, upB, 0)), 1);
-    due("two wilds of strangers", x.may(x.of(list, upA, 0), x.of(list, upD, 0)), 0);
-    due("down to a stranger", x.may(listA, x.of(list, x.wild(DOWN, dType), 0)), 1);
-    due("up to a stranger interface", x.may(listA, x.of(list, x.wild(UP, faceType), 0)), 0);
-    due("bare", x.may(x.plain(list), subB), 1);
-    due("a class in the middle", x.may(x.plain(left), x.of(right, aType, 0)), 1);
-    due("a class in the middle that differs", x.may(x.plain(left), x.of(right, bType, 0)), 0);
-    due("the other way", x.may(x.of(right, bType, 0), x.plain(left)), 0);
-    due("bare in the middle", x.may(x.plain(left), x.plain(right)), 1);
-    due("a VARIABLE argument", x.may(x.of(list, v, 0), listA), 1);
-    due("one whose bound differs", x.may(x.of(list, v, 0), x.of(list, dType, 0)), 0);
-    due("two whose bounds differ", x.may(x.of(list, v, 0), x.of(list, w, 0)), 0);
-    due("one without bound", x.may(x.of(list, v, 0), x.of(list, free, 0)), 1);
-    due("erased bounds", x.may(x.of(list, x.wild(UP, listA), 0), x.of(list, listB, 0)), 1);
-    due("arguments with wild parts",
-        x.may(x.of(list, x.of(list, any, 0), 0), x.of(list, listB, 0)), 0);
-    due("any with a parameter's bound", x.may(x.of(right, any, 0), x.of(list, dType, 0)), 0);
-    due("a row and what is of its argument", x.may(x.row(aType), listA), 0);
-    int two = x.declare(FACE, 2);
-    due("the second argument differs", x.may(x.of(two, any, aType), x.of(two, aType, bType)), 0);
-    due("the first argument differs", x.may(x.of(two, bType, any), x.of(two, aType, aType)), 0);
-    due("neither differs", x.may(x.of(two, bType, any), x.of(two, any, aType)), 1);
-  }
-
-  private static void mayWithRows() {
-    promise = 17;
-    CaptureSubtypes x = new CaptureSubtypes();
-    int a = x.declare(CLASS, 0), b = x.declare(CLASS, 0), face = x.declare(FACE, 0);
-    int c = x.declare(CLASS, 2);
-    x.bind(c, 1, x.plain(face));
-    int aRow = x.row(x.plain(a)), bRow = x.row(x.plain(b)), faceRow = x.row(x.plain(face));
-    int ints = x.row(INT), free = x.variable(c, 0), bound = x.variable(c, 1);
-    due("rows of what may", x.may(aRow, faceRow), 1);
-    due("rows of what may not", x.may(aRow, bRow), 0);
-    due("a row of INT", x.may(ints, aRow), 0);
-    due("into a row of INT", x.may(aRow, ints), 0);
-    due("a row of INT to itself", x.may(ints, ints), 1);
-    due("into a row of OBJECT", x.may(ints, x.row(OBJECT)), 0);
-    due("a row of rows", x.may(x.row(ints), x.row(OBJECT)), 1);
-    due("a row and OBJECT", x.may(OBJECT, ints), 1);
-    due("a row and a class", x.may(aRow, x.plain(a)), 0);
-    due("an interface and a row", x.may(x.plain(face), aRow), 0);
-    due("a row and a VARIABLE", x.may(aRow, free), 1);
-    due("a row and a VARIABLE with a bound", x.may(aRow, bound), 0);
-    due("a VARIABLE and a row", x.may(free, aRow), 1);
-    due("a VARIABLE with a bound and a row", x.may(bound, aRow), 0);
-    due("rows of VARIABLES", x.may(x.row(free), x.row(bound)), 1);
-  }
-
-  private static int rows(CaptureSubtypes x, int type, int times) {
-    int t = type;
-    for (int k = 0; k < times; k++) t = x.row(t);
-    return t;
-  }
-
-  /** All twelve CLASSES in a chain, each step 4 ROWS: AS 1 is of an ARGUMENT 40 ROWS deeper. */
-  private static void mayWithDeepRows() {
-    promise = 17;
-    CaptureSubtypes x = new CaptureSubtypes();
-    for (int c = 1; c <= 10; c++) x.declare(FACE, 1);
-    int low = x.declare(FACE, 2), name = x.plain(1);
-    for (int c = 2; c <= low; c++) {
-      due("a step of 4 rows", x.inherit(c, x.of(c - 1, rows(x, x.variable(c, 0), 4), 0)), 1);
-    }
-    due("a bound", x.bind(low, 1, name), 1);
-    int any = x.wild(ANY, 0), free = x.of(1, x.variable(low, 0), 0);
-    int bound = x.of(1, x.variable(low, 1), 0), ofAny = x.of(1, any, 0);
-    int threeRows = x.of(1, x.wild(UP, rows(x, OBJECT, 3)), 0);
-    int threeNames = x.of(1, x.wild(UP, rows(x, name, 3)), 0);
-    int[] firsts = {
-      OBJECT, rows(x, OBJECT, 4), rows(x, INT, 4), rows(x, name, 4), any, x.variable(low, 0),
-      x.variable(low, 1), x.wild(UP, rows(x, OBJECT, 3)), x.wild(UP, rows(x, INT, 3)),
-      x.wild(UP, rows(x, x.variable(low, 1), 3)), x.wild(DOWN, rows(x, name, 3))
-    };
-    for (int first : firsts) {
-      int deep = x.of(low, first, any);
-      due("deep rows and a VARIABLE", x.may(deep, free), 1);
-      due("a VARIABLE and deep rows", x.may(free, deep), 1);
-      due("deep rows are no VARIABLE", x.is(deep, free), 0);
-      due("deep rows and a VARIABLE with a bound", x.may(deep, bound), 0);
-      due("a VARIABLE with a bound and deep rows", x.may(bound, deep), 0);
-      due("deep rows and any", x.may(deep, ofAny), 1);
-      due("any and deep rows", x.may(ofAny, deep), 1);
-      due("deep rows up to fewer", x.is(deep, threeRows), 1);
-      due("fewer down to deep rows", x.may(threeRows, deep), 1);
-      due("deep rows and fewer of another", x.may(deep, threeNames), 0);
-      due("fewer of another and deep rows", x.may(threeNames, deep), 0);
-      due("deep rows and fewer, no VARIABLE", x.may(deep, x.of(1, rows(x, OBJECT, 3), 0)), 0);
-    }
+    in("Promise 17");
+    test("Whether S MAY be turned into T (1 or 0).", x -> {
+      int face = x.declare(FACE, 1), c = x.declare(CLASS, 0), last = x.declare(LAST, 0);
+      int a = x.plain(c), l = x.plain(last), ofA = x.of(face, a), ofL = x.of(face, l);
+      int some = x.of(face, x.wild(UP, l)), bare = x.plain(face);
+      x.due("a class into an interface", x.may(a, ofA), 1);
+      x.due("a last class", x.may(l, ofA), 0);
+      x.due("another ARGUMENT", x.may(ofA, ofL), 0);
+      x.due("WILD of another", x.may(ofA, some), 0);
+      x.due("WILD of it", x.may(some, ofL), 1);
+      x.due("BARE", x.may(bare, ofL), 1);
+      x.due("NULL", x.may(NULL, ofL), 1);
+      x.due("INT", x.may(INT, ofL), 0);
+    });
+    test("BAD:", x -> {
+      for (int far : FAR) {
+        x.due("the first", x.may(far, OBJECT), BAD);
+        x.due("the second", x.may(OBJECT, far), BAD);
+      }
+      x.due("the next TYPE", x.may(3, OBJECT), BAD);
+      x.due("the next TYPE", x.may(OBJECT, 3), BAD);
+    });
+    test("also WILD,", x -> {
+      int any = x.wild(ANY, 0), up = x.wild(UP, OBJECT), down = x.wild(DOWN, OBJECT);
+      for (int w : new int[] {any, up, down}) {
+        x.due("the first", x.may(w, OBJECT), BAD);
+        x.due("the second", x.may(NULL, w), BAD);
+        x.due("both", x.may(w, w), BAD);
+      }
+    });
+    test("T is NULL.", x -> {
+      int c = x.declare(CLASS, 1), bare = x.plain(c), v = x.variable(c, 0), row = x.row(v);
+      for (int s : new int[] {OBJECT, INT, NULL, bare, v, row}) {
+        x.due("into NULL", x.may(s, NULL), BAD);
+      }
+      x.due("from NULL", x.may(NULL, row), 1);
+    });
   }
 
   private static void as() {
-    promise = 18;
-    CaptureSubtypes x = new CaptureSubtypes();
-    int pair = x.declare(FACE, 2), mid = x.declare(FACE, 1), c = x.declare(CLASS, 2);
-    int d = x.declare(CLASS, 0), v = x.variable(mid, 0), w = x.variable(c, 1);
-    x.inherit(mid, x.of(pair, x.row(v), v));
-    x.inherit(c, x.of(mid, w, 0));
-    int dType = x.plain(d), ofC = x.of(c, OBJECT, dType), bareC = x.plain(c);
-    int any = x.wild(ANY, 0);
-    due("OBJECT", x.as(ofC, 0), OBJECT);
-    due("itself", x.as(ofC, c), ofC);
-    due("no type that is there", x.as(ofC, mid), FULL);
-    due("nothing was put in", x.as(ofC, mid), FULL);
-    int midD = x.of(mid, dType, 0);
-    due("its super", x.as(ofC, mid), midD);
-    due("two up, a row is not there", x.as(ofC, pair), FULL);
-    int rowD = x.row(dType);
-    due("two up, not there with its row", x.as(ofC, pair), FULL);
-    int pairD = x.of(pair, rowD, dType);
-    due("two up, there", x.as(ofC, pair), pairD);
-    due("bare: not there", x.as(bareC, pair), FULL);
-    int objects = x.of(c, dType, OBJECT), rows = x.of(pair, x.row(OBJECT), OBJECT);
-    due("OBJECT put in", x.as(objects, pair), rows);
-    int barePair = x.plain(pair);
-    due("bare: there", x.as(bareC, pair), barePair);
-    due("bare itself", x.as(bareC, c), bareC);
-    int nested = x.of(mid, x.of(mid, any, 0), 0);
-    due("wild parts further in may stand", x.as(nested, mid), nested);
-    due("not below", x.as(dType, mid), NONE);
-    due("not above", x.as(midD, c), NONE);
-    due("OBJECT not below", x.as(OBJECT, mid), NONE);
-    due("OBJECT as OBJECT", x.as(OBJECT, 0), OBJECT);
-    due("INT", x.as(INT, 0), NONE);
-    due("NULL", x.as(NULL, 0), NONE);
-    due("a VARIABLE", x.as(w, 0), NONE);
-    due("a ROW", x.as(rowD, 0), NONE);
-    due("WILD", x.as(any, 0), BAD);
-    due("a WILD argument", x.as(x.of(mid, any, 0), mid), BAD);
-    due("a WILD second argument", x.as(x.of(c, OBJECT, any), c), BAD);
-    due("a WILD argument, not below", x.as(x.of(mid, any, 0), d), BAD);
-    due("no class", x.as(ofC, 5), BAD);
-    due("no type", x.as(x.count(1), 0), BAD);
-    for (int far : FAR) {
-      due("type far off", x.as(far, 0), BAD);
-      due("class far off", x.as(OBJECT, far), BAD);
-    }
-    firstSuperCounts();
-  }
-
-  /** Of a bare one SUPERS may lead to different views: that of the class comes ahead. */
-  private static void firstSuperCounts() {
-    CaptureSubtypes x = new CaptureSubtypes();
-    int root = x.declare(FACE, 1), face = x.declare(FACE, 1), base = x.declare(CLASS, 0);
-    int c = x.declare(CLASS, 1), bareRoot = x.plain(root), ofObject = x.of(root, OBJECT, 0);
-    x.inherit(face, ofObject);
-    x.inherit(base, ofObject);
-    int bareC = x.plain(c);
-    x.inherit(c, x.of(face, x.variable(c, 0), 0));
-    due("by the bare face", x.as(bareC, root), bareRoot);
-    due("of arguments: as it stands", x.as(x.of(c, OBJECT, 0), root), ofObject);
-    x.inherit(c, x.plain(base));
-    due("by the class, put in later", x.as(bareC, root), ofObject);
+    in("Promise 18");
+    test("AS d of a TYPE of a CLASS: told as a TYPE, if it is one that is there: its number.",
+        x -> {
+      int list = x.declare(FACE, 1), sub = x.declare(CLASS, 2), a = x.plain(x.declare(LAST, 0));
+      x.inherit(sub, x.of(list, x.row(x.variable(sub, 1))));
+      int of = x.of(sub, OBJECT, a), listRow = x.of(list, x.row(a)), bare = x.plain(sub);
+      int bareList = x.plain(list), nested = x.of(list, x.of(list, x.wild(ANY, 0)));
+      x.due("its SUPER", x.as(of, list), listRow);
+      x.due("itself", x.as(of, sub), of);
+      x.due("of a BARE one", x.as(bare, list), bareList);
+      x.due("OBJECT", x.as(of, 0), OBJECT);
+      x.due("PLAIN OBJECT", x.as(OBJECT, 0), OBJECT);
+      x.due("with WILD parts further in", x.as(nested, list), nested);
+    });
+    test("NONE: its CLASS is not BELOW d,", x -> {
+      int list = x.declare(FACE, 1), sub = x.declare(CLASS, 0), a = x.plain(sub);
+      int ofA = x.of(list, a), bare = x.plain(list);
+      x.due("a stranger", x.as(a, list), NONE);
+      x.inherit(sub, ofA);
+      x.due("above", x.as(ofA, sub), NONE);
+      x.due("BARE above", x.as(bare, sub), NONE);
+      x.due("OBJECT", x.as(OBJECT, list), NONE);
+      x.due("then it is BELOW", x.as(a, list), ofA);
+    });
+    test("or the TYPE is not of a CLASS;", x -> {
+      int c = x.declare(CLASS, 1), v = x.variable(c, 0), row = x.row(x.plain(c)), rowV = x.row(v);
+      x.bind(c, 0, x.plain(c));
+      int wildRow = x.row(x.of(c, x.wild(ANY, 0)));
+      for (int t : new int[] {INT, NULL, v, row, rowV, wildRow}) {
+        x.due("AS OBJECT", x.as(t, 0), NONE);
+        x.due("AS c", x.as(t, c), NONE);
+      }
+    });
+    test("FULL: it is no TYPE that is there.", x -> {
+      int list = x.declare(FACE, 1), sub = x.declare(CLASS, 1), a = x.plain(x.declare(LAST, 0));
+      x.inherit(sub, x.of(list, x.row(x.variable(sub, 0))));
+      int of = x.of(sub, a), bare = x.plain(sub), deep = x.of(sub, x.rows(a, 4));
+      x.due("neither it nor its part", x.as(of, list), FULL);
+      x.due("the same once more", x.as(of, list), FULL);
+      int row = x.row(a);
+      x.due("its part alone", x.as(of, list), FULL);
+      int there = x.of(list, row);
+      x.due("then it is there", x.as(of, list), there);
+      x.due("BARE", x.as(bare, list), FULL);
+      x.due("one too deep to be there", x.as(deep, list), FULL);
+    });
+    test("BAD:", x -> {
+      int c = x.declare(CLASS, 0), a = x.plain(c);
+      for (int far : FAR) {
+        x.due("no TYPE", x.as(far, c), BAD);
+        x.due("no CLASS", x.as(a, far), BAD);
+        x.due("no CLASS of what is of none", x.as(INT, far), BAD);
+      }
+      x.due("the next TYPE", x.as(a + 1, 0), BAD);
+      x.due("the next CLASS", x.as(a, c + 1), BAD);
+    });
+    test("also it is WILD,", x -> {
+      int c = x.declare(CLASS, 0), any = x.wild(ANY, 0), up = x.wild(UP, x.plain(c));
+      int down = x.wild(DOWN, OBJECT);
+      for (int w : new int[] {any, up, down}) {
+        x.due("AS OBJECT", x.as(w, 0), BAD);
+        x.due("AS c", x.as(w, c), BAD);
+      }
+    });
+    test("or has WILD ARGUMENTS.", x -> {
+      int list = x.declare(FACE, 1), two = x.declare(FACE, 2), any = x.wild(ANY, 0);
+      int some = x.of(list, any), up = x.of(list, x.wild(UP, some)), first = x.of(two, any, OBJECT);
+      int second = x.of(two, OBJECT, any);
+      for (int t : new int[] {some, up, first, second}) {
+        x.due("AS OBJECT", x.as(t, 0), BAD);
+        x.due("AS one of them", x.as(t, list), BAD);
+        x.due("AS the other", x.as(t, two), BAD);
+      }
+    });
   }
 
   private static void erased() {
-    promise = 19;
-    CaptureSubtypes x = new CaptureSubtypes();
-    int list = x.declare(FACE, 1), a = x.declare(CLASS, 0), c = x.declare(CLASS, 2);
-    int aType = x.plain(a), v0 = x.variable(c, 0), v1 = x.variable(c, 1), any = x.wild(ANY, 0);
-    int listAny = x.of(list, any, 0), ints = x.row(INT);
-    due("OBJECT", x.erased(OBJECT), OBJECT);
-    due("PLAIN", x.erased(aType), aType);
-    due("arguments, bare not there", x.erased(listAny), FULL);
-    due("still not there", x.count(1), 9);
-    int bare = x.plain(list);
-    due("arguments", x.erased(listAny), bare);
-    due("bare", x.erased(bare), bare);
-    due("a VARIABLE without bounds", x.erased(v0), OBJECT);
-    x.bind(c, 0, x.of(list, v0, 0));
-    x.bind(c, 1, v0);
-    due("a VARIABLE: its first bound's", x.erased(v0), bare);
-    due("a VARIABLE: a VARIABLE'S", x.erased(v1), bare);
-    x.bind(c, 1, bare);
-    due("a second bound does not count", x.erased(v1), bare);
-    due("a row of INT", x.erased(ints), ints);
-    due("a row of OBJECT", x.erased(x.row(OBJECT)), x.row(OBJECT));
-    int rowV = x.row(v1);
-    due("a row, not there", x.erased(rowV), FULL);
-    int bareRow = x.row(bare);
-    due("a row", x.erased(rowV), bareRow);
-    due("a row of rows", x.erased(x.row(rowV)), FULL);
-    due("INT", x.erased(INT), BAD);
-    due("NULL", x.erased(NULL), BAD);
-    due("WILD", x.erased(any), BAD);
-    due("no type", x.erased(x.count(1)), BAD);
-    for (int far : FAR) due("far off", x.erased(far), BAD);
+    in("Promise 19");
+    test("THE ERASED, if it is a TYPE that is there: its number;", x -> {
+      int list = x.declare(FACE, 1), bare = x.plain(list), v = x.variable(list, 0);
+      int some = x.of(list, x.wild(ANY, 0)), row = x.row(bare), rowSome = x.row(some);
+      x.due("of ARGUMENTS", x.erased(some), bare);
+      x.due("BARE", x.erased(bare), bare);
+      x.due("a ROW", x.erased(rowSome), row);
+      x.due("a VARIABLE", x.erased(v), OBJECT);
+      x.bind(list, 0, x.of(list, v));
+      x.due("a VARIABLE with a BOUND", x.erased(v), bare);
+    });
+    test("else FULL.", x -> {
+      int list = x.declare(FACE, 1), v = x.variable(list, 0), some = x.of(list, x.wild(ANY, 0));
+      int rowV = x.row(v), rowSome = x.row(some);
+      x.due("no BARE one", x.erased(some), FULL);
+      x.due("no ROW of OBJECT", x.erased(rowV), FULL);
+      x.due("no ROW of a BARE one", x.erased(rowSome), FULL);
+      int bare = x.plain(list);
+      x.due("then it is there", x.erased(some), bare);
+      x.due("the ROW is not", x.erased(rowSome), FULL);
+      int bares = x.row(bare);
+      x.due("then it is", x.erased(rowSome), bares);
+    });
+    test("BAD:", x -> {
+      for (int far : FAR) x.due("no TYPE", x.erased(far), BAD);
+      x.due("the next TYPE", x.erased(3), BAD);
+    });
+    test("also WILD, INT and NULL.", x -> {
+      int any = x.wild(ANY, 0), up = x.wild(UP, OBJECT), down = x.wild(DOWN, OBJECT);
+      for (int t : new int[] {any, up, down, INT, NULL}) x.due("none", x.erased(t), BAD);
+    });
   }
 
   private static void good() {
-    promise = 20;
-    CaptureSubtypes x = new CaptureSubtypes();
-    int list = x.declare(FACE, 1), a = x.declare(CLASS, 0), face = x.declare(FACE, 0);
-    int b = x.declare(CLASS, 0), one = x.declare(CLASS, 1), two = x.declare(CLASS, 2);
-    int aType = x.plain(a), bType = x.plain(b), faceType = x.plain(face);
-    x.inherit(b, aType);
-    x.inherit(b, faceType);
-    x.bind(one, 0, aType);
-    x.bind(one, 0, faceType);
-    x.bind(two, 1, x.of(list, x.variable(two, 0), 0));
-    int any = x.wild(ANY, 0), listA = x.of(list, aType, 0);
-    due("no bounds", x.good(listA), 1);
-    due("no bounds, a row", x.good(x.of(list, x.row(INT), 0)), 1);
-    due("both bounds", x.good(x.of(one, bType, 0)), 1);
-    due("the first bound alone", x.good(x.of(one, aType, 0)), 0);
-    due("the second bound alone", x.good(x.of(one, faceType, 0)), 0);
-    due("WILD is not looked at", x.good(x.of(one, any, 0)), 1);
-    due("WILD up to what is no bound", x.good(x.of(one, x.wild(UP, listA), 0)), 1);
-    due("its own VARIABLE", x.good(x.of(one, x.variable(one, 0), 0)), 1);
-    due("another's VARIABLE", x.good(x.of(one, x.variable(list, 0), 0)), 0);
-    due("arguments put in", x.good(x.of(two, aType, listA)), 1);
-    due("other arguments put in", x.good(x.of(two, bType, listA)), 0);
-    due("bare is not of arguments", x.good(x.of(two, aType, x.plain(list))), 0);
-    due("WILD caught and put in", x.good(x.of(two, any, listA)), 0);
-    due("the second WILD", x.good(x.of(two, aType, any)), 1);
-    due("bare", x.good(x.plain(list)), BAD);
-    due("plain", x.good(aType), BAD);
-    due("OBJECT", x.good(OBJECT), BAD);
-    due("INT", x.good(INT), BAD);
-    due("a VARIABLE", x.good(x.variable(one, 0)), BAD);
-    due("WILD", x.good(any), BAD);
-    due("a row", x.good(x.row(listA)), BAD);
-    due("no type", x.good(x.count(1)), BAD);
-    for (int far : FAR) due("far off", x.good(far), BAD);
-  }
-
-  private static void refusalsChangeNothing() {
-    promise = 4;
-    CaptureSubtypes x = new CaptureSubtypes();
-    int list = x.declare(FACE, 1), a = x.declare(SEALED_FACE, 0), c = x.declare(CLASS, 1);
-    int listA = x.of(list, x.plain(a), 0), listC = x.of(list, x.variable(c, 0), 0);
-    x.inherit(c, listA);
-    x.bind(c, 0, listA);
-    x.bind(c, 0, x.plain(a));
-    x.row(x.of(c, x.wild(UP, listA), 0));
-    List<Integer> before = picture(x);
-    due("CLASH", x.inherit(c, listC), CLASH);
-    due("BAD super", x.inherit(a, listC), BAD);
-    due("FULL bound", x.bind(c, 0, listA), FULL);
-    due("BAD bound", x.bind(c, 0, OBJECT), BAD);
-    due("BAD type", x.of(c, INT, 0), BAD);
-    due("BAD class", x.declare(5, 5), BAD);
-    due("nothing changed", picture(x).equals(before) ? 1 : 0, 1);
+    in("Promise 20");
+    test("Whether a TYPE of ARGUMENTS is GOOD (1 or 0): each ARGUMENT that is not WILD IS a BOUND"
+        + " of its PARAMETER, for each BOUND", x -> {
+      int face = x.declare(FACE, 0), base = x.declare(CLASS, 0), heir = x.declare(CLASS, 0);
+      int two = x.declare(CLASS, 2), f = x.plain(face), a = x.plain(base), b = x.plain(heir);
+      x.inherit(heir, a);
+      x.inherit(heir, f);
+      int bb = x.of(two, b, b), ab = x.of(two, a, b), ba = x.of(two, b, a), aa = x.of(two, a, a);
+      int row = x.of(two, x.row(INT), OBJECT), any = x.wild(ANY, 0), wild = x.of(two, any, any);
+      int strange = x.of(two, x.wild(UP, f), x.wild(DOWN, OBJECT)), anyA = x.of(two, any, a);
+      x.due("without BOUNDS", x.good(row), 1);
+      x.bind(two, 0, a);
+      x.due("one BOUND", x.good(aa), 1);
+      x.due("it IS not the BOUND", x.good(row), 0);
+      x.bind(two, 0, f);
+      x.bind(two, 1, f);
+      x.due("each BOUND", x.good(bb), 1);
+      x.due("the first BOUND alone", x.good(ab), 0);
+      x.due("the second PARAMETER'S not", x.good(ba), 0);
+      x.due("WILD ones do not count", x.good(wild), 1);
+      x.due("whatever they are of", x.good(strange), 1);
+      x.due("the other does", x.good(anyA), 0);
+      int own = x.of(two, x.variable(two, 0), x.variable(two, 1));
+      int crossed = x.of(two, x.variable(two, 1), x.variable(two, 1));
+      x.due("its own VARIABLES are within the BOUNDS", x.good(own), 1);
+      x.due("a VARIABLE that is not", x.good(crossed), 0);
+    });
+    test("(ARGUMENTS, WILD ones CAUGHT, put in for PARAMETERS).", x -> {
+      int list = x.declare(FACE, 1), a = x.plain(x.declare(LAST, 0)), two = x.declare(CLASS, 2);
+      int self = x.declare(CLASS, 1), word = x.declare(CLASS, 0), w = x.plain(word);
+      x.bind(two, 1, x.of(list, x.variable(two, 0)));
+      x.bind(self, 0, x.of(list, x.variable(self, 0)));
+      x.inherit(word, x.of(list, w));
+      int listA = x.of(list, a), any = x.wild(ANY, 0), listAny = x.of(list, any);
+      int fit = x.of(two, a, listA), unfit = x.of(two, OBJECT, listA);
+      int caught = x.of(two, any, listA);
+      int bare = x.of(two, a, x.plain(list)), wide = x.of(two, a, listAny);
+      x.due("the other ARGUMENT put in", x.good(fit), 1);
+      x.due("another one", x.good(unfit), 0);
+      x.due("what is CAUGHT is another one", x.good(caught), 0);
+      x.due("UNCHECKED is not enough", x.good(bare), 0);
+      x.due("nor any", x.good(wide), 0);
+      int selfW = x.of(self, w), selfA = x.of(self, a);
+      x.due("itself put in", x.good(selfW), 1);
+      x.due("itself put in, which it is not", x.good(selfA), 0);
+      x.bind(self, 0, x.plain(list));
+      x.due("BARE beside it", x.good(selfW), 1);
+    });
+    test("BAD: it is not of ARGUMENTS.", x -> {
+      int list = x.declare(FACE, 1), bare = x.plain(list), a = x.plain(x.declare(LAST, 0));
+      int v = x.variable(list, 0), any = x.wild(ANY, 0), row = x.row(x.of(list, a));
+      for (int t : new int[] {OBJECT, INT, NULL, bare, a, v, any, row, row + 1}) {
+        x.due("not of ARGUMENTS", x.good(t), BAD);
+      }
+      for (int far : FAR) x.due("no TYPE", x.good(far), BAD);
+    });
   }
 }
