@@ -532,8 +532,11 @@ public final class CaptureSubtypes {
     private static final class Types {
         static final int MOST = 150, DEEPEST = 6;
 
-        /** With what a call forms: far more than SUPERS and BOUNDS of 150 TYPES can ask for. */
-        static final int ROOM = 2048;
+        /**
+         * With what a call forms: an AS, or what is put into BOUNDS, adds one for each of the 150
+         * at most, and no more than some five of these stand open at once.
+         */
+        static final int ROOM = 1024;
 
         private static final int WILD_INSIDE = 1 << Classes.MOST;
 
@@ -1099,14 +1102,22 @@ public final class CaptureSubtypes {
             }
             for (int i = 0; i < facetCount(a); i++) {
                 for (int k = 0; k < facetCount(b); k++) {
-                    int x = shapes.erasure(facet(a, i));
-                    int y = shapes.erasure(facet(b, k));
-                    if (!order.isOne(x, y, LEVELS) && !order.isOne(y, x, LEVELS)) {
+                    if (areStrangers(facet(a, i), facet(b, k))) {
                         return true;
                     }
                 }
             }
             return false;
+        }
+
+        /** Whether of THE ERASED of two TYPES neither IS the other. */
+        private boolean areStrangers(int a, int b) {
+            int mark = types.mark();
+            int one = shapes.erasure(a);
+            int other = shapes.erasure(b);
+            boolean yes = !order.isOne(one, other, LEVELS) && !order.isOne(other, one, LEVELS);
+            types.dropTo(mark);
+            return yes;
         }
 
         /** What stands for an ARGUMENT when it is told from another: BOUNDS, or itself. */

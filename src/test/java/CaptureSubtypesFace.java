@@ -1,3 +1,4 @@
+import java.lang.reflect.Array;
 import java.lang.reflect.Constructor;
 import java.lang.reflect.Field;
 import java.lang.reflect.Method;
@@ -5,13 +6,16 @@ import java.lang.reflect.Modifier;
 import java.nio.file.Files;
 import java.nio.file.Path;
 import java.util.Arrays;
+import java.util.Collections;
+import java.util.IdentityHashMap;
 import java.util.Map;
+import java.util.Set;
 import java.util.TreeMap;
 import java.util.TreeSet;
 import java.util.regex.Matcher;
 import java.util.regex.Pattern;
 
-/** The public face of the document, and the words that LANGUAGE.md leaves out. */
+/** The public face of the document, the words that LANGUAGE.md leaves out, and the room. */
 public final class CaptureSubtypesFace {
   private static int wrong = 0;
 
@@ -27,6 +31,7 @@ public final class CaptureSubtypesFace {
     methods();
     nestedClasses();
     source();
+    room();
     System.out.println(wrong == 0 ? "the face is as due" : wrong + " faults of the face");
     if (wrong != 0) System.exit(1);
   }
@@ -102,5 +107,50 @@ public final class CaptureSubtypesFace {
       expect(!m.find(), "the source is without " + w);
     }
     expect(!Pattern.compile("[^\\x00-\\x7f]").matcher(text).find(), "the source is plain text");
+  }
+
+  /**
+   * All calls of one run live in one room. Making an object is the dearest call, and no other one
+   * makes anything that stays: even a run of nothing else has to go in.
+   */
+  private static void room() throws Exception {
+    CaptureSubtypes o = new CaptureSubtypes();
+    long[] before = size(o);
+    for (int k = 0; k < 40; k++) {
+      int c = o.declare(3, 1);
+      int v = o.variable(c, 0);
+      int t = o.of(c, o.wild(1, o.row(v)), 0);
+      o.inherit(c, o.of(c - 1, v, 0));
+      o.is(t, o.plain(1));
+      o.may(t, o.of(1, o.wild(0, 0), 0));
+      o.good(t);
+    }
+    expect(Arrays.equals(before, size(o)), "what an object holds does not grow");
+    expect(before[0] * 512 < 600_000, "512 new objects are in the room: " + before[0]);
+    expect(before[1] * 512 < 7_300_000, "and their fields and elements: " + before[1]);
+  }
+
+  /** How many objects and arrays an object holds, and how many fields and elements these have. */
+  private static long[] size(Object root) throws Exception {
+    Set<Object> seen = Collections.newSetFromMap(new IdentityHashMap<>());
+    long[] size = new long[2];
+    count(root, seen, size);
+    return size;
+  }
+
+  private static void count(Object x, Set<Object> seen, long[] size) throws Exception {
+    if (x == null || !seen.add(x)) return;
+    size[0]++;
+    if (x.getClass().isArray()) {
+      size[1] += Array.getLength(x);
+      return;
+    }
+    for (Field f : x.getClass().getDeclaredFields()) {
+      if (Modifier.isStatic(f.getModifiers())) continue;
+      size[1]++;
+      if (f.getType().isPrimitive()) continue;
+      f.setAccessible(true);
+      count(f.get(x), seen, size);
+    }
   }
 }

@@ -794,6 +794,7 @@ public final class CaptureSubtypesPromises extends Sentences {
       x.due("NULL", x.is(NULL, some), 1);
       x.due("OBJECT", x.is(some, OBJECT), 1);
     });
+    test("Whether S IS a T: 1;", x -> wideSupers(x));
     test("2: UNCHECKED;", x -> {
       int list = x.declare(FACE, 1), sub = x.declare(CLASS, 1), bare = x.plain(sub);
       x.inherit(sub, x.of(list, x.variable(sub, 0)));
@@ -826,6 +827,36 @@ public final class CaptureSubtypesPromises extends Sentences {
         x.due("both", x.is(w, w), BAD);
       }
     });
+  }
+
+  /** All CLASSES in a chain of wide SUPERS: one AS forms about a hundred TYPES, and three nest. */
+  private static void wideSupers(Run x) {
+    for (int c = 1; c < MOST_CLASSES; c++) x.declare(FACE, 2);
+    for (int c = 2; c < MOST_CLASSES; c++) wideSuper(x, c);
+    int low = MOST_CLASSES - 1, any = x.wild(ANY, 0), ints = x.row(INT), all = x.row(OBJECT);
+    int s2 = x.of(low, OBJECT, any), s6 = nested(x, low, all, UP, nested(x, low, ints, UP, s2));
+    int t2 = x.of(1, any, any), t6 = nested(x, 1, any, UP, nested(x, 1, any, UP, t2));
+    int n6 = nested(x, 1, any, UP, nested(x, 1, any, UP, x.of(1, OBJECT, any)));
+    int downS = nested(x, low, all, UP, nested(x, low, ints, DOWN, t2));
+    int downT = nested(x, 1, any, UP, nested(x, 1, any, DOWN, s2));
+    x.due("all TYPES are there", x.told(downT, 4), 6);
+    x.due("up to, up to", x.is(s6, t6), 1);
+    x.due("up to, down to", x.is(downS, downT), 1);
+    x.due("the innermost ARGUMENT is not the same", x.is(s6, n6), 0);
+    x.due("but MAY be", x.may(s6, n6), 1);
+    x.due("and back", x.may(n6, s6), 1);
+  }
+
+  private static int nested(Run x, int c, int first, int kind, int inner) {
+    return x.of(c, first, x.wild(kind, inner));
+  }
+
+  private static void wideSuper(Run x, int c) {
+    int v = x.variable(c, 0), row = x.row(v), pair = x.of(1, v, v);
+    int left = x.of(1, x.of(1, row, pair), x.of(1, pair, row));
+    int right = x.of(1, x.row(row), x.row(pair));
+    int wide = x.of(c - 1, x.of(1, left, right), x.variable(c, 1));
+    x.due("a step", x.inherit(c, wide), 1);
   }
 
   private static void may() {

@@ -21,8 +21,8 @@ abstract class Sentences {
 
   /** Numbers that no CLASS, TYPE, PARAMETER, KIND or what has. */
   static final int[] FAR = {
-    -1, -2, -3, Integer.MIN_VALUE, Integer.MIN_VALUE + 1, 150, 151, 2047, 2048, 2049, 65536,
-    1 << 30, Integer.MAX_VALUE, Integer.MAX_VALUE - 1
+    -1, -2, -3, Integer.MIN_VALUE, Integer.MIN_VALUE + 1, 150, 151, 1023, 1024, 1025,
+    65536, 1 << 30, Integer.MAX_VALUE, Integer.MAX_VALUE - 1
   };
 
   // ---------------------------------------------------------------- the calls
